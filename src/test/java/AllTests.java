@@ -1,0 +1,21 @@
+/** Runs every test of the project; takes the path of Stormbond.java. */
+public final class AllTests {
+    private AllTests() {
+    }
+
+    public static void main(String[] args) {
+        Suite s = new Suite();
+        FaceTests.addTo(s);
+        LossTests.addTo(s);
+        CoverTests.addTo(s);
+        BondTests.addTo(s);
+        PriceTests.addTo(s);
+        TowerTests.addTo(s);
+        BestTests.addTo(s);
+        RandomRuns.addTo(s);
+        LanguageTests.addTo(s, args.length > 0 ? args[0] : "src/main/java/Stormbond.java");
+        if (!s.end()) {
+            System.exit(1);
+        }
+    }
+}

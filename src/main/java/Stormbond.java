@@ -6,6 +6,7 @@ public final class Stormbond {
     private static final int LAST_HOUR = 2199;
     private static final int LAST_CELL = 15;
     private static final int CELLS_IN_ROW = 4;
+    private static final int FARTHEST = 6;
     private static final int ALL_CELLS = 65535;
     private static final int WIND_CLAUSE = 72;
     private static final int OTHER_CLAUSE = 168;
@@ -976,7 +977,7 @@ public final class Stormbond {
         /** The STATION that stands in for those of a BOX, NONE if one of them still works, or there is none. */
         int standInFor(int box, int last) {
             int nearest = NONE;
-            int least = Integer.MAX_VALUE;
+            int least = FARTHEST + 1;
             for (int i = 0; i < count; i++) {
                 if (hasFailedBy(i, last)) {
                     continue;
@@ -994,7 +995,7 @@ public final class Stormbond {
         }
 
         private static int distanceTo(int box, int cell) {
-            int least = Integer.MAX_VALUE;
+            int least = FARTHEST;
             for (int i = 0; i <= LAST_CELL; i++) {
                 if ((box >> i & 1) == 1) {
                     int rows = Math.abs(i / CELLS_IN_ROW - cell / CELLS_IN_ROW);
@@ -1154,13 +1155,13 @@ public final class Stormbond {
             return total;
         }
 
-        /** The weight above a bound falls only where the bound is a pay, so that only 0 and pays come in. */
+        /**
+         * The weight above a bound falls only where the bound is a pay, and below all pays it is all
+         * weight, which is above any percent told: so only pays come in.
+         */
         int leastBound(int model, Tower tower, int layer, int percent) {
             int most = percent * totalWeight(model);
-            if (PERCENT * weightAbove(model, tower, layer, 0) <= most) {
-                return 0;
-            }
-            int least = Integer.MAX_VALUE;
+            int least = MOST_UNITS;
             for (int i = 0; i < counts[model]; i++) {
                 int pay = payBy(model, i, tower, layer);
                 if (pay < least && PERCENT * weightAbove(model, tower, layer, pay) <= most) {

@@ -17,6 +17,8 @@ final class BondTests {
         s.test("promise 24: ofBond, the INDEX by term, PERIL and BOX", BondTests::index);
         s.test("promise 24: ofBond, the INDEX when STATIONS fail", BondTests::indexWhenFailed);
         s.test("promise 24: ofBond, the nearest STATION", BondTests::nearest);
+        s.test("promise 24: ofBond, the nearest STATION of all CELLS", BondTests::nearestOfAll);
+        s.test("promise 24: ofBond, the 60th READING", BondTests::lastReading);
         s.test("promise 24: ofBond, the nearest STATION when others fail", BondTests::nearestWhenFailed);
         s.test("promise 24: ofBond, the PAYOUT", BondTests::payout);
         s.test("promise 24: ofBond, TRUST, PAID and FREE", BondTests::trust);
@@ -283,6 +285,37 @@ final class BondTests {
         x.reading(1, 0, 0, 9);
         t.due("READINGS of the nearest alone", 2, x.ofBond(0, 0));
         t.due("READINGS of another", 9, x.ofBond(2, 0));
+    }
+
+    /** Two STATIONS and a BOX of one CELL, of each CELL: rows and columns reckoned by hand. */
+    static void nearestOfAll(Suite t) {
+        for (int cell = 0; cell < 16; cell++) {
+            for (int a = 0; a < 16; a++) {
+                for (int b = 0; b < 16; b++) {
+                    Stormbond x = new Stormbond();
+                    x.station(a);
+                    x.station(b);
+                    x.bond(1000, 0, 1 << cell, 0, 0, 1, 10);
+                    int toA = Math.abs(a / 4 - cell / 4) + Math.abs(a % 4 - cell % 4);
+                    int toB = Math.abs(b / 4 - cell / 4) + Math.abs(b % 4 - cell % 4);
+                    int want = a == cell || b == cell ? -1 : toB < toA ? 1 : 0;
+                    t.due("CELL " + cell + ", STATIONS in " + a + " and " + b, want, x.ofBond(0, 5));
+                }
+            }
+        }
+    }
+
+    static void lastReading(Suite t) {
+        Stormbond x = new Stormbond();
+        x.station(0);
+        x.bond(1000, 0, 1, 0, 2199, 1, 10);
+        for (int i = 0; i < 59; i++) {
+            x.reading(0, i, 0, 1);
+        }
+        t.due("59", 1, x.ofBond(0, 0));
+        x.reading(0, 2199, 0, 9);
+        t.due("60", 9, x.ofBond(0, 0));
+        t.due("all but the last count", 59, x.fails(0, 2199));
     }
 
     static void nearestWhenFailed(Suite t) {

@@ -36,8 +36,7 @@ import javax.tools.ToolProvider;
 final class LanguageTests extends TreeScanner<Void, Void> {
     private static final Set<String> EXCEPTIONS =
         Set.of("IllegalStateException", "IllegalArgumentException", "IndexOutOfBoundsException");
-    private static final Set<String> LIBRARY = Set.of("Math.min", "Math.max", "Math.abs", "System.arraycopy",
-        "Integer.MAX_VALUE", "int.length");
+    private static final Set<String> LIBRARY = Set.of("Math.min", "Math.max", "Math.abs", "System.arraycopy");
     private static final Set<String> LIBRARY_NAMES = Set.of("Math", "System", "Integer", "Long", "Double", "Arrays",
         "String", "Object", "Character", "Boolean", "Float", "Thread", "Runtime");
 

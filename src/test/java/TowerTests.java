@@ -17,6 +17,8 @@ final class TowerTests {
         s.test("promise 19: what the insurer keeps can be below 0", TowerTests::keptBelowNought);
         s.test("promise 19: sum refuses", TowerTests::sumRefuses);
         s.test("promise 20: reinsurer bears, rounded for each OCCURRENCE", TowerTests::bears);
+        s.test("promise 20: reinsurer bears nothing of what was taken back", TowerTests::bearsTakenBack);
+        s.test("promise 20: reinsurer bears of eight OCCURRENCES and five LAYERS", TowerTests::bearsMost);
         s.test("promise 20: reinsurer at the end of the SPIRAL", TowerTests::spiral);
         s.test("promise 20: NET behind the 40th round", TowerTests::endlessSpiral);
         s.test("promise 20: reinsurer refuses", TowerTests::reinsurerRefuses);
@@ -237,6 +239,41 @@ final class TowerTests {
         t.due("four times 25", 100, x.reinsurer(1, 0));
         x.part(0, 0, 10);
         t.due("and PARTS of it", 98 + 10, x.reinsurer(0, 0));
+    }
+
+    static void bearsTakenBack(Suite t) {
+        Stormbond x = new Stormbond();
+        x.layer(0, 100, 100, 3, 10, 100);
+        x.part(0, 4, 50);
+        x.loss(0, 0, 60);
+        x.loss(0, 1, 80);
+        x.choose(0, 0, 0);
+        x.choose(0, 1, 1);
+        t.due("of both", 70, x.reinsurer(4, 0));
+        t.due("sum(5)", 14, x.sum(5));
+        x.unchoose();
+        t.due("of the first", 30, x.reinsurer(4, 0));
+        t.due("sum(3)", 60, x.sum(3));
+        t.due("sum(4)", 30, x.sum(4));
+        t.due("sum(5)", 6, x.sum(5));
+        t.due("sum(7)", 30, x.sum(7));
+    }
+
+    static void bearsMost(Suite t) {
+        Stormbond x = new Stormbond();
+        for (int layer = 0; layer < 5; layer++) {
+            x.layer(0, 10, 100, 3, 0, 0);
+            x.part(layer, layer + 1, 100);
+        }
+        for (int o = 0; o < 8; o++) {
+            x.loss(0, o, o + 1);
+            x.choose(0, o, o);
+        }
+        for (int layer = 0; layer < 5; layer++) {
+            t.due("borne", 36, x.reinsurer(layer + 1, 0));
+            t.due("left", 4, x.hit(layer, 7, 4));
+        }
+        t.due("sum(3)", 180, x.sum(3));
     }
 
     static Stormbond bearing(int direct) {

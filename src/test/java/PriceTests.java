@@ -10,6 +10,7 @@ final class PriceTests {
         s.test("promise 26: price of the greatest numbers", PriceTests::greatestPrice);
         s.test("promise 26: price refuses", PriceTests::priceRefuses);
         s.test("promise 27: tail", PriceTests::tail);
+        s.test("promise 27: tail of a MODEL with 12 SCENARIOS", PriceTests::fullTail);
         s.test("promise 27: tail refuses", PriceTests::tailRefuses);
         s.test("promise 28: dearest", PriceTests::dearest);
         s.test("promise 28: dearest tells the bits of a double", PriceTests::bits);
@@ -105,6 +106,22 @@ final class PriceTests {
         t.due("nothing is paid", 0, x.tail(0, 2, 0));
         x.quota(50);
         t.due("QUOTA is taken off ahead", 250, x.tail(0, 0, 0));
+    }
+
+    static void fullTail(Suite t) {
+        Stormbond x = new Stormbond();
+        x.layer(0, 999999, 100, 0, 0, 0);
+        for (int model = 0; model < 3; model++) {
+            for (int i = 0; i < 12; i++) {
+                x.scenario(model, 1, 1000 * model + 10 * (11 - i));
+            }
+        }
+        for (int model = 0; model < 3; model++) {
+            t.due("none above", 1000 * model + 110, x.tail(0, model, 0));
+            t.due("one above", 1000 * model + 100, x.tail(0, model, 9));
+            t.due("eleven above", 1000 * model, x.tail(0, model, 92));
+            t.due("price", 1000 * (1000 * model + 55), x.price(0, model));
+        }
     }
 
     static void tailRefuses(Suite t) {

@@ -6,12 +6,16 @@ public final class AllTests {
     public static void main(String[] args) {
         Suite s = new Suite();
         FaceTests.addTo(s);
+        RangeTests.addTo(s);
+        MostTests.addTo(s);
+        NoneTests.addTo(s);
+        FirstTests.addTo(s);
         LossTests.addTo(s);
         CoverTests.addTo(s);
-        BondTests.addTo(s);
-        PriceTests.addTo(s);
         TowerTests.addTo(s);
         BestTests.addTo(s);
+        BondTests.addTo(s);
+        PriceTests.addTo(s);
         RandomRuns.addTo(s);
         LanguageTests.addTo(s, args.length > 0 ? args[0] : "src/main/java/Stormbond.java");
         if (!s.end()) {

@@ -1,420 +1,280 @@
-/** Promises 10 to 15, 24, 25 and 29: STATIONS, READINGS, BONDS and HOURS. */
+/** Promises 10 to 15, 24, 25 and 29: STATIONS, READINGS, BONDS and HOURS, and what "Terms" says of them. */
 final class BondTests {
     private BondTests() {
     }
 
     static void addTo(Suite s) {
-        s.test("promise 10: station", BondTests::stations);
-        s.test("promise 11: reading", BondTests::readings);
-        s.test("promise 11: reading refuses", BondTests::readingRefuses);
-        s.test("promise 12: fails", BondTests::fails);
-        s.test("promise 12: fails refuses", BondTests::failsRefuses);
-        s.test("promise 13: bond takes the edges", BondTests::bonds);
-        s.test("promise 13: bond refuses", BondTests::bondRefuses);
-        s.test("promise 14: extend", BondTests::extend);
-        s.test("promise 14: extend refuses", BondTests::extendRefuses);
-        s.test("promises 15 and 29: pass and hour", BondTests::pass);
-        s.test("promise 24: ofBond, the INDEX by term, PERIL and BOX", BondTests::index);
-        s.test("promise 24: ofBond, the INDEX when STATIONS fail", BondTests::indexWhenFailed);
-        s.test("promise 24: ofBond, the nearest STATION", BondTests::nearest);
-        s.test("promise 24: ofBond, the nearest STATION of all CELLS", BondTests::nearestOfAll);
-        s.test("promise 24: ofBond, the 60th READING", BondTests::lastReading);
-        s.test("promise 24: ofBond, the nearest STATION when others fail", BondTests::nearestWhenFailed);
-        s.test("promise 24: ofBond, the PAYOUT", BondTests::payout);
-        s.test("promise 24: ofBond, TRUST, PAID and FREE", BondTests::trust);
-        s.test("promise 24: ofBond refuses", BondTests::ofBondRefuses);
-        s.test("promise 25: basis", BondTests::basis);
+        addStations(s);
+        addFailing(s);
+        addTelling(s);
+        addExtending(s);
+        addHours(s);
+        addIndex(s);
+        addFailed(s);
+        addNearest(s);
+        s.test("Terms: CELLS in four rows of four: the nearest of two STATIONS to a BOX of each CELL", BondTests::nearestOfAll);
+        addPayout(s);
+        addTrust(s);
+        addBasis(s);
     }
 
-    static void stations(Suite t) {
-        Stormbond x = new Stormbond();
-        t.refusesArgument(x, "station(-1)", () -> x.station(-1));
-        t.refusesArgument(x, "station(16)", () -> x.station(16));
-        int[] cells = {0, 15, 3, 3, 12, 7};
-        for (int i = 0; i < 6; i++) {
-            t.due("station", i, x.station(cells[i]));
-        }
-        t.refusesState(x, "the seventh", () -> x.station(1));
-        t.refusesArgument(x, "the seventh, wrong too", () -> x.station(16));
-        t.due("a READING of the sixth", 1, x.reading(5, 0, 0, 1));
-        t.refusesIndex(x, "a READING of the seventh", () -> x.reading(6, 0, 0, 1));
+    private static void addStations(Suite s) {
+        s.run("promise 10: returns its number, also of several in one CELL",
+            "station(15) -> 0; station(15) -> 1; station(0) -> 2; station(16) -> argument; station(15) -> 3");
+        s.run("promise 10, `cell`: 0 to 15: READINGS of STATIONS in the first and the last CELL count in their BOX", """
+            station(0); station(15); reading(0, 5, 0, 3); reading(1, 5, 0, 4); bond(9, 0, 1, 0, 9, 1, 1)
+            bond(9, 0, 32768, 0, 9, 1, 1); bond(9, 0, 65535, 0, 9, 1, 1); bond(9, 0, 32769, 0, 9, 1, 1)
+            ofBond(0, 0) -> 3; ofBond(1, 0) -> 4; ofBond(2, 0) -> 4; ofBond(3, 0) -> 4; ofBond(0, 5) -> -1; ofBond(1, 5) -> -1
+            """);
+        s.run("promise 11: returns how many there are then, of all STATIONS",
+            "station(0); station(1); reading(0, 0, 0, 0) -> 1; reading(1, 2199, 2, 9) -> 2; reading(0, 0, 0, 10) -> argument; reading(0, 0, 0, 0) -> 3");
+        s.run("promise 11, `strength`: 0 to 9: both count as they are",
+            "station(0); bond(9, 1, 1, 0, 2199, 9, 100); reading(0, 2199, 1, 0); ofBond(0, 0) -> 0; reading(0, 0, 1, 9); ofBond(0, 0) -> 9; ofBond(0, 1) -> 9");
     }
 
-    static void readings(Suite t) {
-        Stormbond x = new Stormbond();
-        x.station(0);
-        x.station(15);
-        t.due("first", 1, x.reading(0, 0, 0, 0));
-        t.due("second", 2, x.reading(1, 2199, 2, 9));
-        x.fails(1, 5);
-        for (int i = 3; i <= 60; i++) {
-            t.due("one more, whether it counts or not", i, x.reading(i % 2, i, i % 3, i % 10));
-        }
-        t.refusesState(x, "the 61st", () -> x.reading(0, 0, 0, 0));
-        t.refusesArgument(x, "the 61st, wrong too", () -> x.reading(0, 2200, 0, 0));
-        t.refusesIndex(x, "the 61st, of no STATION", () -> x.reading(2, 2200, 0, 0));
+    private static void addFailing(Suite s) {
+        s.run("Terms: its READINGS of that HOUR, or of later ones, do not count; promise 12: how many count still", """
+            station(0); station(1); reading(0, 10, 0, 1); reading(0, 11, 1, 0); reading(0, 12, 2, 1); reading(0, 13, 2, 1)
+            reading(1, 1, 0, 1); fails(0, 12) -> 2; fails(1, 2) -> 1
+            """);
+        s.run("promise 12: it fails from the HOUR 0 on: none count; from 2199 on: all but those of the last HOUR", """
+            station(0); station(1); reading(0, 0, 0, 1); reading(0, 2199, 0, 1); reading(1, 0, 0, 1); reading(1, 2198, 0, 1)
+            reading(1, 2199, 0, 1); fails(0, 0) -> 0; fails(1, 2199) -> 2
+            """);
+        s.run("Terms: whenever they were told, behind that too", """
+            station(0); station(0); bond(9, 0, 1, 0, 99, 1, 1); fails(0, 50) -> 0; reading(0, 50, 0, 9) -> 1
+            ofBond(0, 0) -> 0; reading(0, 49, 0, 4) -> 2; ofBond(0, 0) -> 4; reading(0, 99, 0, 8) -> 3; ofBond(0, 0) -> 4
+            """);
+        s.run("promise 12: it was told of it before: for good, from the least HOUR and from the greatest one too", """
+            station(0); station(0); fails(0, 0) -> 0; fails(1, 2199) -> 0; fails(0, 0) -> state; fails(0, 2199) -> state
+            fails(1, 0) -> state; fails(1, 2199) -> state; station(0) -> 2; fails(2, 7) -> 0
+            """);
+        s.run("Terms: a STATION fails at an HOUR to come, or that has passed", """
+            station(0); station(0); bond(9, 0, 1, 0, 99, 1, 1); reading(0, 70, 0, 5); reading(1, 10, 0, 4)
+            fails(0, 70) -> 0; ofBond(0, 0) -> 4; pass(90); fails(1, 10) -> 0; ofBond(0, 0) -> 0
+            """);
     }
 
-    static void readingRefuses(Suite t) {
-        Stormbond x = new Stormbond();
-        t.refusesIndex(x, "no STATION", () -> x.reading(0, 0, 0, 0));
-        x.station(4);
-        t.refusesIndex(x, "STATION -1, all wrong", () -> x.reading(-1, -1, -1, -1));
-        int[][] wrong = {{-1, 0, 0}, {2200, 0, 0}, {0, -1, 0}, {0, 3, 0}, {0, 0, -1}, {0, 0, 10}};
-        for (int[] a : wrong) {
-            t.refusesArgument(x, "reading(0, " + a[0] + ", " + a[1] + ", " + a[2] + ")",
-                () -> x.reading(0, a[0], a[1], a[2]));
-        }
-        t.due("the first one", 1, x.reading(0, 2199, 2, 9));
+    private static void addTelling(Suite s) {
+        s.run("promise 13: returns its number; a BOND of the least and of the greatest numbers",
+            "bond(1, 0, 1, 0, 0, 1, 1) -> 0; bond(999999, 2, 65535, 2199, 2199, 9, 100) -> 1; bond(0, 0, 1, 0, 0, 1, 1) -> argument; bond(1, 0, 1, 0, 0, 1, 1) -> 2");
+        s.run("promise 13: the last HOUR has passed: not in it, but behind it", """
+            pass(10); bond(1, 0, 1, 0, 9, 1, 1) -> state; bond(1, 0, 1, 0, 0, 1, 1) -> state; bond(1, 0, 1, 0, 10, 1, 1) -> 0
+            bond(1, 0, 1, 10, 10, 1, 1) -> 1; ofBond(0, 2) -> 1; pass(1); bond(1, 0, 1, 0, 10, 1, 1) -> state
+            bond(1, 0, 1, 0, 11, 1, 1) -> 2; ofBond(0, 2) -> 0
+            """);
+        s.run("promise 13, `last`: the last one, not below the first one",
+            "bond(1, 0, 1, 6, 5, 1, 1) -> argument; bond(1, 0, 1, 2199, 0, 1, 1) -> argument; bond(1, 0, 1, MAX, MIN, 1, 1) -> argument"
+                + "; bond(1, 0, 1, MIN, MAX, 1, 1) -> argument; bond(1, 0, 1, 5, 5, 1, 1) -> 0; bond(1, 0, 1, 0, 2199, 1, 1) -> 1");
+        s.run("promise 13, `box`: 1 to 65535: the bit k for the CELL k, no other bits", """
+            bond(1, 0, 65536, 0, 9, 1, 1) -> argument; bond(1, 0, 65537, 0, 9, 1, 1) -> argument
+            bond(1, 0, -65535, 0, 9, 1, 1) -> argument; bond(1, 0, 131071, 0, 9, 1, 1) -> argument
+            bond(1, 0, 0, 0, 9, 1, 1) -> argument; bond(1, 0, 32768, 0, 9, 1, 1) -> 0
+            """);
     }
 
-    static void fails(Suite t) {
-        Stormbond x = new Stormbond();
-        x.station(0);
-        x.station(1);
-        x.station(2);
-        x.reading(0, 10, 0, 1);
-        x.reading(0, 11, 1, 0);
-        x.reading(0, 12, 2, 1);
-        x.reading(1, 1, 0, 1);
-        t.due("from HOUR 12 on", 2, x.fails(0, 12));
-        t.due("READINGS are kept", 5, x.reading(0, 5, 0, 9));
-        t.due("of HOUR 0 on", 0, x.fails(1, 0));
-        t.due("without READINGS", 0, x.fails(2, 2199));
+    private static void addExtending(Suite s) {
+        s.run("promise 14: returns the HOUR to which it is extended; it can come to be beyond 2199", """
+            bond(9, 0, 1, 0, 2199, 9, 10); bond(9, 0, 1, 0, 2199, 9, 10); bond(9, 0, 1, 0, 50, 9, 10)
+            bond(9, 0, 1, 0, 0, 9, 10); extend(0, 500) -> 2699; extend(1, 1) -> 2200; extend(2, 500) -> 550
+            extend(3, 1) -> 1; pass(500); pass(500); pass(500); pass(500); pass(199); ofBond(0, 2) -> 1; ofBond(1, 2) -> 1
+            ofBond(2, 2) -> 0
+            """);
+        s.run("promise 14: once, by the least and the greatest number of HOURS", """
+            bond(9, 0, 1, 0, 50, 9, 10); bond(9, 0, 1, 0, 50, 9, 10); extend(0, 1) -> 51; extend(0, 1) -> state
+            extend(0, 500) -> state; extend(1, 500) -> 550; extend(1, 1) -> state; extend(1, 500) -> state; pass(51)
+            ofBond(0, 2) -> 1; extend(0, 1) -> state; pass(1); ofBond(0, 2) -> 0; ofBond(1, 2) -> 1; extend(0, 1) -> state
+            """);
+        s.run("promise 14: while it is in TRUST: in the last HOUR of its term, and not behind it", """
+            bond(9, 0, 1, 0, 50, 9, 10); bond(9, 0, 1, 0, 50, 9, 10); pass(50); extend(0, 1) -> 51; pass(1)
+            ofBond(0, 2) -> 1; ofBond(1, 2) -> 0; extend(1, 1) -> state; extend(1, 500) -> state; extend(0, 1) -> state
+            """);
+        s.run("promise 14: there is no such BOND behind the last one",
+            "extend(0, 1) -> index; bond(9, 0, 1, 0, 50, 9, 10); extend(1, 1) -> index; extend(-1, 1) -> index; extend(0, 1) -> 51");
     }
 
-    static void failsRefuses(Suite t) {
-        Stormbond x = new Stormbond();
-        t.refusesIndex(x, "no STATION", () -> x.fails(0, 0));
-        x.station(0);
-        x.bond(100, 0, 1, 0, 50, 1, 50);
-        x.reading(0, 20, 0, 1);
-        t.refusesIndex(x, "fails(1, -1)", () -> x.fails(1, -1));
-        t.refusesIndex(x, "fails(-1, 0)", () -> x.fails(-1, 0));
-        t.refusesArgument(x, "fails(0, -1)", () -> x.fails(0, -1));
-        t.refusesArgument(x, "fails(0, 2200)", () -> x.fails(0, 2200));
-        t.due("the last HOUR", 1, x.fails(0, 2199));
-        t.refusesState(x, "told before", () -> x.fails(0, 0));
-        t.refusesState(x, "told before", () -> x.fails(0, 2199));
-        t.refusesArgument(x, "told before, wrong too", () -> x.fails(0, 2200));
-        t.due("INDEX", 1, x.ofBond(0, 0));
+    private static void addHours(Suite s) {
+        s.run("promises 15 and 29: returns the HOUR then; the HOUR", """
+            hour() -> 0; pass(1) -> 1; hour() -> 1; pass(500) -> 501; hour() -> 501; pass(0) -> argument
+            pass(501) -> argument; hour() -> 501
+            """);
+        s.run("promise 15: it would be above 2199: by one, by more; to 2199 itself is taken", """
+            pass(500); pass(500); pass(500); pass(500) -> 2000; pass(200) -> state; pass(500) -> state; pass(198) -> 2198
+            pass(2) -> state; pass(1) -> 2199; hour() -> 2199; pass(1) -> state; hour() -> 2199
+            """);
+        s.run("promise 15: from 1699 on by 500 to the last HOUR, from 1700 on not",
+            "pass(500); pass(500); pass(500); pass(199); pass(500) -> 2199; pass(1) -> state");
+        s.run("promise 15: 500 HOURS from 1700 on would be above 2199",
+            "pass(500); pass(500); pass(500); pass(200) -> 1700; pass(500) -> state; pass(499) -> 2199");
     }
 
-    static void bonds(Suite t) {
-        Stormbond x = new Stormbond();
-        t.due("least", 0, x.bond(1, 0, 1, 0, 0, 1, 1));
-        t.due("greatest", 1, x.bond(999999, 2, 65535, 2199, 2199, 9, 100));
-        x.pass(10);
-        t.due("its last HOUR is this", 2, x.bond(1, 0, 1, 0, 10, 1, 1));
-        t.refusesState(x, "its last HOUR has passed", () -> x.bond(1, 0, 1, 0, 9, 1, 1));
-        t.due("fourth", 3, x.bond(1, 0, 1, 5, 20, 1, 1));
-        t.due("fifth", 4, x.bond(1, 0, 1, 5, 20, 1, 1));
-        t.refusesState(x, "sixth", () -> x.bond(1, 0, 1, 5, 20, 1, 1));
-        t.refusesArgument(x, "sixth, wrong too", () -> x.bond(1, 0, 1, 21, 20, 1, 1));
+    private static void addIndex(Suite s) {
+        s.run("Terms: the greatest strength of READINGS in its term, from one HOUR to another one, both with it", """
+            station(5); bond(9, 1, 32, 100, 200, 1, 1); reading(0, 99, 1, 9); reading(0, 201, 1, 9); ofBond(0, 0) -> 0
+            reading(0, 150, 1, 1); ofBond(0, 0) -> 1; reading(0, 100, 1, 2); ofBond(0, 0) -> 2; reading(0, 200, 1, 4)
+            ofBond(0, 0) -> 4; reading(0, 150, 1, 3); ofBond(0, 0) -> 4
+            """);
+        s.run("Terms: a term of one HOUR, the first and the last of all", """
+            station(0); bond(9, 0, 1, 0, 0, 1, 1); bond(9, 0, 1, 2199, 2199, 1, 1); reading(0, 1, 0, 9); reading(0, 2198, 0, 9)
+            ofBond(0, 0) -> 0; ofBond(1, 0) -> 0; reading(0, 0, 0, 3); reading(0, 2199, 0, 4); ofBond(0, 0) -> 3
+            ofBond(1, 0) -> 4
+            """);
+        s.run("Terms: READINGS of its PERIL, of no other one", """
+            station(0); bond(9, 0, 1, 0, 9, 1, 1); bond(9, 1, 1, 0, 9, 1, 1); bond(9, 2, 1, 0, 9, 1, 1); reading(0, 5, 0, 3)
+            reading(0, 5, 1, 4); reading(0, 5, 2, 5); ofBond(0, 0) -> 3; ofBond(1, 0) -> 4; ofBond(2, 0) -> 5
+            """);
+        s.run("Terms: of STATIONS in its BOX, of all of them, and of no other ones", """
+            station(5); station(6); station(0); bond(9, 0, 96, 0, 9, 1, 1); bond(9, 0, 1, 0, 9, 1, 1)
+            reading(2, 5, 0, 9); ofBond(0, 0) -> 0; ofBond(0, 5) -> -1; reading(0, 5, 0, 3); reading(1, 5, 0, 4)
+            ofBond(0, 0) -> 4; ofBond(1, 0) -> 9
+            """);
+        s.run("Terms: READINGS at HOURS to come count; the term of a BOND that begins in what has passed",
+            "station(0); reading(0, 2, 0, 6); pass(5); bond(9, 0, 1, 0, 9, 1, 1); ofBond(0, 0) -> 6; reading(0, 9, 0, 7); ofBond(0, 0) -> 7");
+        s.run("Terms: READINGS are kept, at most 60: the last one counts", "station(0); bond(9, 0, 1, 0, 2199, 1, 10);"
+            + Worlds.times(59, "reading(0, #, 0, 1)") + "ofBond(0, 0) -> 1; reading(0, 2199, 0, 9) -> 60; ofBond(0, 0) -> 9; fails(0, 2199) -> 59");
     }
 
-    static void bondRefuses(Suite t) {
-        Stormbond x = new Stormbond();
-        x.pass(100);
-        int[] right = {5, 1, 6, 200, 300, 7, 8};
-        int[] least = {1, 0, 1, 0, 0, 1, 1};
-        int[] most = {999999, 2, 65535, 2199, 2199, 9, 100};
-        for (int k = 0; k < 7; k++) {
-            for (int bad : new int[] {least[k] - 1, most[k] + 1, Integer.MIN_VALUE, Integer.MAX_VALUE}) {
-                int[] a = right.clone();
-                a[k] = bad;
-                t.refusesArgument(x, "bond with " + bad + " at " + k,
-                    () -> x.bond(a[0], a[1], a[2], a[3], a[4], a[5], a[6]));
-            }
-        }
-        t.refusesArgument(x, "last below first", () -> x.bond(5, 1, 6, 200, 199, 7, 8));
-        t.refusesArgument(x, "last below first and past", () -> x.bond(5, 1, 6, 50, 49, 7, 8));
-        t.refusesState(x, "past", () -> x.bond(5, 1, 6, 50, 99, 7, 8));
-        t.due("the first number", 0, x.bond(5, 1, 6, 50, 100, 7, 8));
+    private static void addFailed(Suite s) {
+        s.run("Terms: all have failed by the last HOUR of the term: from it on", """
+            station(0); station(1); bond(9, 0, 1, 0, 100, 1, 1); reading(0, 99, 0, 4); reading(1, 100, 0, 8)
+            ofBond(0, 0) -> 4; fails(0, 100) -> 1; ofBond(0, 0) -> 8; ofBond(0, 5) -> 1
+            """);
+        s.run("Terms: all have failed by the last HOUR of the term: not if it is from the HOUR behind it on", """
+            station(0); station(1); bond(9, 0, 1, 0, 100, 1, 1); reading(0, 100, 0, 4); reading(1, 100, 0, 8)
+            fails(0, 101) -> 1; ofBond(0, 0) -> 4; ofBond(0, 5) -> -1
+            """);
+        s.run("Terms: all have failed by the last HOUR of the term: or from an earlier one on, as told by now", """
+            station(0); station(1); bond(9, 0, 1, 50, 100, 1, 1); reading(0, 60, 0, 4); reading(1, 100, 0, 8)
+            fails(0, 0) -> 0; ofBond(0, 0) -> 8; ofBond(0, 5) -> 1
+            """);
+        s.run("Terms: if one of several in the BOX has not failed by then, it goes by those in it, by what counts", """
+            station(0); station(0); station(1); bond(9, 0, 1, 0, 100, 1, 1); reading(0, 49, 0, 5); reading(0, 50, 0, 6)
+            reading(1, 60, 0, 1); reading(2, 60, 0, 3); ofBond(0, 0) -> 6; fails(0, 50) -> 1; ofBond(0, 0) -> 5
+            ofBond(0, 5) -> -1; fails(1, 100) -> 1; ofBond(0, 0) -> 3; ofBond(0, 5) -> 2; fails(2, 100) -> 1
+            ofBond(0, 0) -> 5; ofBond(0, 5) -> -1
+            """);
+        s.run("Terms: the nearest that has not failed by then: those that have are passed over", """
+            station(1); station(2); station(3); bond(9, 0, 1, 0, 100, 1, 1); reading(0, 10, 0, 4); reading(1, 10, 0, 5)
+            reading(2, 10, 0, 6); reading(2, 101, 0, 9); ofBond(0, 5) -> 0; ofBond(0, 0) -> 4; fails(0, 100); ofBond(0, 5) -> 1
+            ofBond(0, 0) -> 5; fails(1, 0); ofBond(0, 5) -> 2; fails(2, 101); ofBond(0, 5) -> 2; ofBond(0, 0) -> 6
+            station(0); ofBond(0, 5) -> -1; ofBond(0, 0) -> 0
+            """);
+        s.run("Terms: READINGS of the nearest count by PERIL and term as well", """
+            station(1); bond(9, 0, 1, 10, 20, 1, 1); reading(0, 9, 0, 9); reading(0, 21, 0, 9); reading(0, 15, 1, 9)
+            ofBond(0, 0) -> 0; reading(0, 10, 0, 2); ofBond(0, 0) -> 2; reading(0, 20, 0, 3); ofBond(0, 0) -> 3
+            ofBond(0, 5) -> 0
+            """);
+        s.run("Terms: by the last HOUR of each term for itself", """
+            station(0); station(1); bond(9, 0, 1, 0, 49, 1, 1); bond(9, 0, 1, 0, 50, 1, 1); reading(0, 10, 0, 3)
+            reading(1, 10, 0, 4); fails(0, 50) -> 1; ofBond(0, 0) -> 3; ofBond(0, 5) -> -1; ofBond(1, 0) -> 4; ofBond(1, 5) -> 1
+            """);
     }
 
-    static void extend(Suite t) {
-        Stormbond x = new Stormbond();
-        x.station(0);
-        x.reading(0, 60, 0, 9);
-        x.bond(1000, 0, 1, 0, 50, 9, 10);
-        x.bond(1000, 0, 1, 0, 2199, 9, 10);
-        x.bond(1000, 0, 1, 0, 50, 9, 10);
-        t.due("beyond 2199", 2699, x.extend(1, 500));
-        x.pass(50);
-        t.due("in its last HOUR", 51, x.extend(0, 1));
-        t.due("the term is what it was", 0, x.ofBond(0, 0));
-        x.pass(1);
-        t.due("extended: in TRUST", 1, x.ofBond(0, 2));
-        t.due("not extended: not in TRUST", 0, x.ofBond(2, 2));
-        t.refusesState(x, "not in TRUST any more", () -> x.extend(2, 500));
-        x.pass(1);
-        t.due("behind it", 0, x.ofBond(0, 2));
-        t.due("FREE", 1000, x.ofBond(0, 4));
-        x.pass(500);
-        x.pass(500);
-        x.pass(500);
-        x.pass(500);
-        x.pass(147);
-        t.due("extended beyond all HOURS", 1, x.ofBond(1, 2));
+    private static void addNearest(Suite s) {
+        s.run("Terms: there is no STATION in the BOX: that with the least number of rows and columns, of several the lowest", """
+            bond(9, 0, 1, 0, 100, 1, 10); ofBond(0, 5) -> -1; station(15); bond(9, 0, 520, 0, 100, 1, 10)
+            bond(9, 0, 4096, 0, 100, 1, 10); ofBond(0, 5) -> 0; station(8); ofBond(0, 5) -> 1; ofBond(1, 5) -> 1; station(3)
+            ofBond(0, 5) -> 1; ofBond(1, 5) -> -1; station(5); ofBond(0, 5) -> 1; ofBond(2, 5) -> 1; station(4)
+            ofBond(0, 5) -> 4; station(1); ofBond(0, 5) -> 4; reading(4, 0, 0, 2); reading(5, 0, 0, 3); reading(1, 0, 0, 9)
+            ofBond(0, 0) -> 2; ofBond(2, 0) -> 9
+            """);
+        s.run("Terms: the farthest there is: six rows and columns, from the CELL 0 to 15 and from 3 to 12", """
+            station(15); bond(9, 0, 1, 0, 9, 1, 1); reading(0, 5, 0, 6); ofBond(0, 5) -> 0; ofBond(0, 0) -> 6; station(14)
+            ofBond(0, 5) -> 1; bond(9, 0, 4096, 0, 9, 1, 1); station(3); ofBond(1, 5) -> 1; bond(9, 0, 8, 0, 9, 1, 1)
+            ofBond(2, 5) -> -1
+            """);
+        s.run("Terms: a CELL's row is its number divided by 4, its column what is left over: 3 and 4 are not next to each other", """
+            station(4); station(6); bond(9, 0, 8, 0, 9, 1, 1); ofBond(0, 5) -> 1; bond(9, 0, 16384, 0, 9, 1, 1); station(11)
+            ofBond(1, 5) -> 1; station(12); ofBond(1, 5) -> 1; station(13); ofBond(1, 5) -> 4
+            """);
+        s.run("Terms: between its CELL and one of the BOX: the nearest one of these", """
+            station(0); station(15); bond(9, 0, 18432, 0, 9, 1, 1); ofBond(0, 5) -> 1; bond(9, 0, 16386, 0, 9, 1, 1)
+            ofBond(1, 5) -> 0; bond(9, 0, 32766, 0, 9, 1, 1); ofBond(2, 5) -> 0; fails(0, 9); ofBond(2, 5) -> 1
+            """);
     }
 
-    static void extendRefuses(Suite t) {
-        Stormbond x = new Stormbond();
-        t.refusesIndex(x, "no BOND", () -> x.extend(0, 1));
-        x.bond(1000, 0, 1, 0, 50, 9, 10);
-        x.bond(1000, 0, 1, 0, 50, 9, 10);
-        t.refusesIndex(x, "extend(2, 0)", () -> x.extend(2, 0));
-        t.refusesIndex(x, "extend(-1, 1)", () -> x.extend(-1, 1));
-        t.refusesArgument(x, "extend(0, 0)", () -> x.extend(0, 0));
-        t.refusesArgument(x, "extend(0, 501)", () -> x.extend(0, 501));
-        t.due("extend", 60, x.extend(0, 10));
-        t.refusesState(x, "extended", () -> x.extend(0, 10));
-        t.refusesArgument(x, "extended, wrong too", () -> x.extend(0, 501));
-        x.pass(61);
-        t.refusesState(x, "extended, and behind it", () -> x.extend(0, 1));
-        t.refusesState(x, "behind it", () -> x.extend(1, 20));
-        t.refusesArgument(x, "behind it, wrong too", () -> x.extend(1, -20));
-    }
-
-    static void pass(Suite t) {
-        Stormbond x = new Stormbond();
-        t.due("hour", 0, x.hour());
-        t.due("pass(1)", 1, x.pass(1));
-        t.due("pass(500)", 501, x.pass(500));
-        for (int hours : new int[] {0, -1, 501, Integer.MIN_VALUE, Integer.MAX_VALUE}) {
-            t.refusesArgument(x, "pass(" + hours + ")", () -> x.pass(hours));
-        }
-        x.pass(500);
-        x.pass(500);
-        t.due("pass(500)", 2001, x.pass(500));
-        t.refusesState(x, "to 2200", () -> x.pass(199));
-        t.refusesState(x, "to 2501", () -> x.pass(500));
-        t.refusesArgument(x, "to 2502", () -> x.pass(501));
-        t.due("pass(198)", 2199, x.pass(198));
-        t.refusesState(x, "pass(1)", () -> x.pass(1));
-        t.due("hour", 2199, x.hour());
-        t.due("a LOSS that has passed", 0, x.loss(0, 0, 1));
-    }
-
-    static void index(Suite t) {
-        Stormbond x = new Stormbond();
-        x.station(5);
-        x.station(6);
-        x.station(0);
-        x.bond(1000, 1, 1 << 5 | 1 << 6, 100, 200, 1, 10);
-        t.due("without READINGS", 0, x.ofBond(0, 0));
-        x.reading(0, 99, 1, 9);
-        x.reading(0, 201, 1, 9);
-        x.reading(0, 150, 0, 9);
-        x.reading(0, 150, 2, 9);
-        x.reading(2, 150, 1, 9);
-        t.due("none of these", 0, x.ofBond(0, 0));
-        x.reading(0, 100, 1, 2);
-        t.due("the first HOUR", 2, x.ofBond(0, 0));
-        x.reading(1, 200, 1, 4);
-        t.due("the last HOUR", 4, x.ofBond(0, 0));
-        x.reading(0, 150, 1, 3);
-        t.due("the greatest", 4, x.ofBond(0, 0));
-        t.due("by those in the BOX", -1, x.ofBond(0, 5));
-        t.due("the BOX's first CELL", 1, x.bond(1000, 1, 1, 100, 200, 1, 10));
-        t.due("the STATION 2", 9, x.ofBond(1, 0));
-        x.station(15);
-        x.reading(3, 150, 1, 7);
-        x.bond(1000, 1, 1 << 15, 150, 150, 1, 10);
-        t.due("the last CELL", 7, x.ofBond(2, 0));
-        t.due("in it", -1, x.ofBond(2, 5));
-    }
-
-    static void indexWhenFailed(Suite t) {
-        Stormbond x = new Stormbond();
-        x.station(0);
-        x.station(0);
-        x.station(1);
-        x.bond(1000, 0, 1, 0, 100, 1, 10);
-        x.reading(0, 49, 0, 5);
-        x.reading(0, 50, 0, 6);
-        x.reading(1, 60, 0, 1);
-        x.reading(2, 60, 0, 3);
-        t.due("ahead", 6, x.ofBond(0, 0));
-        x.fails(0, 50);
-        t.due("one has failed, what it read ahead counts", 5, x.ofBond(0, 0));
-        x.reading(0, 80, 0, 9);
-        t.due("told behind that", 5, x.ofBond(0, 0));
-        t.due("by those in the BOX", -1, x.ofBond(0, 5));
-        x.fails(1, 100);
-        t.due("all have failed by the last HOUR", 3, x.ofBond(0, 0));
-        t.due("by the nearest", 2, x.ofBond(0, 5));
-        x.fails(2, 100);
-        t.due("none is left: as told ahead", 5, x.ofBond(0, 0));
-        t.due("by none", -1, x.ofBond(0, 5));
-        Stormbond y = new Stormbond();
-        y.station(0);
-        y.station(1);
-        y.bond(1000, 0, 1, 0, 100, 1, 10);
-        y.reading(0, 100, 0, 4);
-        y.reading(1, 100, 0, 8);
-        y.fails(0, 101);
-        t.due("failed behind the term", 4, y.ofBond(0, 0));
-        t.due("by those in the BOX", -1, y.ofBond(0, 5));
-    }
-
-    static void nearest(Suite t) {
-        Stormbond x = new Stormbond();
-        x.bond(1000, 0, 1 << 0, 0, 100, 1, 10);
-        t.due("no STATION", -1, x.ofBond(0, 5));
-        x.station(15);
-        x.bond(1000, 0, 1 << 9 | 1 << 3, 0, 100, 1, 10);
-        x.bond(1000, 0, 1 << 12, 0, 100, 1, 10);
-        t.due("the only one", 0, x.ofBond(0, 5));
-        x.station(8);
-        t.due("two rows from 0", 1, x.ofBond(0, 5));
-        t.due("one column from 9", 1, x.ofBond(1, 5));
-        x.station(3);
-        t.due("three columns from 0", 1, x.ofBond(0, 5));
-        t.due("in the BOX", -1, x.ofBond(1, 5));
-        x.station(5);
-        t.due("a row and a column: the lowest", 1, x.ofBond(0, 5));
-        t.due("one row from 12", 1, x.ofBond(2, 5));
-        x.station(4);
-        t.due("one row from 0", 4, x.ofBond(0, 5));
-        x.station(1);
-        t.due("one column from 0: the lowest", 4, x.ofBond(0, 5));
-        x.reading(4, 0, 0, 2);
-        x.reading(5, 0, 0, 3);
-        x.reading(1, 0, 0, 9);
-        t.due("READINGS of the nearest alone", 2, x.ofBond(0, 0));
-        t.due("READINGS of another", 9, x.ofBond(2, 0));
-    }
-
-    /** Two STATIONS and a BOX of one CELL, of each CELL: rows and columns reckoned by hand. */
-    static void nearestOfAll(Suite t) {
+    private static void nearestOfAll(Suite t) {
         for (int cell = 0; cell < 16; cell++) {
             for (int a = 0; a < 16; a++) {
                 for (int b = 0; b < 16; b++) {
-                    Stormbond x = new Stormbond();
-                    x.station(a);
-                    x.station(b);
-                    x.bond(1000, 0, 1 << cell, 0, 0, 1, 10);
                     int toA = Math.abs(a / 4 - cell / 4) + Math.abs(a % 4 - cell % 4);
                     int toB = Math.abs(b / 4 - cell / 4) + Math.abs(b % 4 - cell % 4);
                     int want = a == cell || b == cell ? -1 : toB < toA ? 1 : 0;
-                    t.due("CELL " + cell + ", STATIONS in " + a + " and " + b, want, x.ofBond(0, 5));
+                    new Run(t).go("station(" + a + "); station(" + b + "); bond(1000, 0, " + (1 << cell)
+                        + ", 0, 0, 1, 10); ofBond(0, 5) -> " + want);
                 }
             }
         }
     }
 
-    static void lastReading(Suite t) {
-        Stormbond x = new Stormbond();
-        x.station(0);
-        x.bond(1000, 0, 1, 0, 2199, 1, 10);
-        for (int i = 0; i < 59; i++) {
-            x.reading(0, i, 0, 1);
-        }
-        t.due("59", 1, x.ofBond(0, 0));
-        x.reading(0, 2199, 0, 9);
-        t.due("60", 9, x.ofBond(0, 0));
-        t.due("all but the last count", 59, x.fails(0, 2199));
+    private static void addPayout(Suite s) {
+        s.run("Terms: nothing, if the INDEX is below the trigger; percent times the principal, if it is the trigger; more", """
+            station(0); bond(1003, 0, 1, 0, 0, 3, 33); reading(0, 0, 0, 2); ofBond(0, 0) -> 2; ofBond(0, 1) -> 0
+            reading(0, 0, 0, 3); ofBond(0, 1) -> 330; reading(0, 0, 0, 4); ofBond(0, 1) -> 666; reading(0, 0, 0, 5)
+            ofBond(0, 1) -> 834; reading(0, 0, 0, 6); ofBond(0, 1) -> 918; reading(0, 0, 0, 7); ofBond(0, 1) -> 960
+            reading(0, 0, 0, 8); ofBond(0, 1) -> 981; reading(0, 0, 0, 9); ofBond(0, 1) -> 992
+            """);
+        s.run("promise 13, `trigger`: 1 to 9: just reached, and one below", """
+            station(0); bond(1000, 0, 1, 0, 0, 1, 10); bond(1000, 0, 1, 0, 0, 9, 10); ofBond(0, 1) -> 0; reading(0, 0, 0, 1)
+            ofBond(0, 1) -> 100; ofBond(1, 1) -> 0; reading(0, 0, 0, 8); ofBond(1, 1) -> 0; reading(0, 0, 0, 9)
+            ofBond(1, 1) -> 100; ofBond(0, 1) -> 996
+            """);
+        s.run("promise 13, `percent`: 1 to 100: of the whole principal nothing is left to add", """
+            station(0); bond(999999, 0, 1, 0, 0, 1, 100); bond(999999, 0, 1, 0, 0, 1, 1); bond(99, 0, 1, 0, 0, 1, 1)
+            bond(100, 0, 1, 0, 0, 1, 1); reading(0, 0, 0, 1); ofBond(0, 1) -> 999999; ofBond(1, 1) -> 9999
+            ofBond(2, 1) -> 0; ofBond(3, 1) -> 1; reading(0, 0, 0, 9); ofBond(0, 1) -> 999999; ofBond(1, 1) -> 996131
+            """);
+        s.run("Terms: a division of units is rounded down: half of what is left, of a principal of 1 and of 2", """
+            station(0); bond(1, 0, 1, 0, 0, 1, 99); bond(2, 0, 1, 0, 0, 1, 49); bond(3, 0, 1, 0, 0, 1, 1); reading(0, 0, 0, 1)
+            ofBond(0, 1) -> 0; ofBond(1, 1) -> 0; reading(0, 0, 0, 2); ofBond(0, 1) -> 0; ofBond(1, 1) -> 1
+            ofBond(2, 1) -> 1; reading(0, 0, 0, 9); ofBond(0, 1) -> 0; ofBond(1, 1) -> 1; ofBond(2, 1) -> 2
+            """);
     }
 
-    static void nearestWhenFailed(Suite t) {
-        Stormbond x = new Stormbond();
-        x.station(1);
-        x.station(2);
-        x.station(3);
-        x.bond(1000, 0, 1, 0, 100, 1, 10);
-        x.reading(0, 10, 0, 4);
-        x.reading(1, 10, 0, 5);
-        x.reading(2, 10, 0, 6);
-        x.reading(2, 101, 0, 9);
-        t.due("0", 0, x.ofBond(0, 5));
-        x.fails(0, 100);
-        t.due("1", 1, x.ofBond(0, 5));
-        t.due("its READING", 5, x.ofBond(0, 0));
-        x.fails(1, 0);
-        t.due("2", 2, x.ofBond(0, 5));
-        x.fails(2, 101);
-        t.due("2, which fails behind the term", 2, x.ofBond(0, 5));
-        t.due("its READING", 6, x.ofBond(0, 0));
-        x.station(0);
-        t.due("one in the BOX", -1, x.ofBond(0, 5));
-        t.due("without READINGS", 0, x.ofBond(0, 0));
+    private static void addTrust(Suite s) {
+        s.run("Terms: in TRUST as long as it is not later than the last HOUR; then the PAYOUT is PAID, the rest FREE", """
+            station(0); bond(1000, 0, 1, 10, 20, 5, 40); reading(0, 15, 0, 5); ofBond(0, 2) -> 1; pass(20); ofBond(0, 1) -> 400
+            ofBond(0, 2) -> 1; ofBond(0, 3) -> 0; ofBond(0, 4) -> 0; pass(1); ofBond(0, 2) -> 0; ofBond(0, 3) -> 400
+            ofBond(0, 4) -> 600; ofBond(0, 1) -> 400
+            """);
+        s.run("Terms: or, if it was extended, than the HOUR to which it was", """
+            station(0); bond(1000, 0, 1, 10, 20, 5, 40); reading(0, 15, 0, 5); extend(0, 7) -> 27; pass(21); ofBond(0, 2) -> 1
+            pass(6) -> 27; ofBond(0, 2) -> 1; ofBond(0, 3) -> 0; ofBond(0, 4) -> 0; pass(1); ofBond(0, 2) -> 0
+            ofBond(0, 3) -> 400; ofBond(0, 4) -> 600
+            """);
+        s.run("Terms: to extend does not change the term: for READINGS, nor for STATIONS that fail", """
+            station(0); station(1); bond(1000, 0, 1, 0, 50, 1, 10); reading(0, 51, 0, 9); reading(1, 50, 0, 7)
+            extend(0, 500); ofBond(0, 0) -> 0; fails(0, 51); ofBond(0, 0) -> 0; ofBond(0, 5) -> -1; reading(0, 50, 0, 2)
+            ofBond(0, 0) -> 2
+            """);
+        s.run("promise 24: by what is told by now, also behind the TRUST", """
+            station(0); station(1); bond(1000, 0, 1, 10, 20, 5, 40); reading(0, 15, 0, 5); pass(21); ofBond(0, 3) -> 400
+            reading(0, 15, 0, 6); ofBond(0, 3) -> 700; ofBond(0, 4) -> 300; reading(1, 20, 0, 4); fails(0, 15)
+            ofBond(0, 0) -> 4; ofBond(0, 3) -> 0; ofBond(0, 4) -> 1000; ofBond(0, 5) -> 1
+            """);
+        s.run("Terms: PAID is all and FREE is nothing where the PAYOUT is the principal; the other way round without one", """
+            station(0); bond(7, 0, 1, 0, 0, 9, 100); bond(7, 1, 1, 0, 0, 9, 100); reading(0, 0, 0, 9); reading(0, 0, 1, 8)
+            pass(1); ofBond(0, 3) -> 7; ofBond(0, 4) -> 0; ofBond(1, 3) -> 0; ofBond(1, 4) -> 7
+            """);
+        s.runIn(Worlds.SOME, "promise 24: `what`: 0 its INDEX to 5 the STATION nearest to its BOX by which it goes", """
+            ofBond(0, 0) -> 7; ofBond(0, 1) -> 925; ofBond(0, 2) -> 1; ofBond(0, 3) -> 0; ofBond(0, 4) -> 0; ofBond(0, 5) -> -1
+            ofBond(1, 0) -> 4; ofBond(1, 1) -> 500; ofBond(1, 2) -> 1; ofBond(1, 5) -> -1; ofBond(2, 0) -> 5
+            ofBond(2, 1) -> 0; ofBond(2, 2) -> 1; ofBond(2, 5) -> 0; pass(20); ofBond(0, 2) -> 1; pass(1); ofBond(0, 2) -> 0
+            ofBond(0, 3) -> 925; ofBond(0, 4) -> 75; pass(49); ofBond(1, 2) -> 1; pass(1); ofBond(1, 2) -> 0
+            ofBond(1, 3) -> 500; ofBond(1, 4) -> 0; ofBond(2, 2) -> 1
+            """);
     }
 
-    static void payout(Suite t) {
-        Stormbond x = new Stormbond();
-        x.station(0);
-        x.bond(1003, 0, 1, 0, 0, 3, 33);
-        x.bond(999999, 0, 1, 0, 0, 1, 100);
-        x.bond(7, 0, 1, 0, 0, 9, 1);
-        x.bond(999999, 0, 1, 0, 0, 1, 1);
-        x.reading(0, 0, 0, 2);
-        t.due("below the trigger", 0, x.ofBond(0, 1));
-        x.reading(0, 0, 0, 3);
-        t.due("the trigger", 330, x.ofBond(0, 1));
-        x.reading(0, 0, 0, 4);
-        t.due("one more", 330 + 336, x.ofBond(0, 1));
-        x.reading(0, 0, 0, 9);
-        int paid = 330;
-        for (int k = 3; k < 9; k++) {
-            paid += (1003 - paid) / 2;
-        }
-        t.due("six more", paid, x.ofBond(0, 1));
-        t.due("all of it", 999999, x.ofBond(1, 1));
-        t.due("1 percent of 7", 0, x.ofBond(2, 1));
-        t.due("half of the rest, eight times", 996131, x.ofBond(3, 1));
-        t.due("in TRUST nothing is PAID", 0, x.ofBond(0, 3));
-        t.due("in TRUST nothing is FREE", 0, x.ofBond(0, 4));
-    }
-
-    static void trust(Suite t) {
-        Stormbond x = new Stormbond();
-        x.station(0);
-        x.bond(1000, 0, 1, 10, 20, 5, 40);
-        x.reading(0, 15, 0, 5);
-        x.pass(20);
-        t.due("TRUST", 1, x.ofBond(0, 2));
-        t.due("PAID", 0, x.ofBond(0, 3));
-        t.due("FREE", 0, x.ofBond(0, 4));
-        x.pass(1);
-        t.due("TRUST", 0, x.ofBond(0, 2));
-        t.due("PAID", 400, x.ofBond(0, 3));
-        t.due("FREE", 600, x.ofBond(0, 4));
-        x.reading(0, 15, 0, 6);
-        t.due("by what is told by now", 700, x.ofBond(0, 3));
-        t.due("by what is told by now", 300, x.ofBond(0, 4));
-    }
-
-    static void ofBondRefuses(Suite t) {
-        Stormbond x = new Stormbond();
-        t.refusesIndex(x, "no BOND", () -> x.ofBond(0, 0));
-        x.bond(1000, 0, 1, 10, 20, 5, 40);
-        t.refusesIndex(x, "ofBond(1, 6)", () -> x.ofBond(1, 6));
-        t.refusesIndex(x, "ofBond(-1, 0)", () -> x.ofBond(-1, 0));
-        t.refusesArgument(x, "ofBond(0, 6)", () -> x.ofBond(0, 6));
-        t.refusesArgument(x, "ofBond(0, -1)", () -> x.ofBond(0, -1));
-    }
-
-    static void basis(Suite t) {
-        Stormbond x = new Stormbond();
-        x.station(0);
-        x.bond(1000, 0, 1, 0, 20, 5, 40);
-        x.bond(500, 0, 1, 0, 20, 5, 100);
-        x.bond(500, 1, 1, 0, 20, 5, 100);
-        t.due("nothing", 0, x.basis());
-        x.loss(0, 0, 600);
-        t.due("less", -600, x.basis());
-        x.reading(0, 0, 0, 5);
-        t.due("more", 900 - 600, x.basis());
-        x.pass(21);
-        t.due("PAID", 900 - 600, x.basis());
-        x.layer(0, 100, 100, 1, 70, 100);
-        x.choose(0, 0, 0);
-        t.due("it pays for reinstating", 900 - 670, x.basis());
-        x.part(0, 3, 100);
-        t.due("100 are borne", 900 - 570, x.basis());
-        x.quota(10);
-        t.due("60 more are borne", 900 - 510, x.basis());
+    private static void addBasis(Suite s) {
+        s.run("promise 25: how much PAYOUTS of all BONDS are more than what the insurer keeps of it all, below 0 if less", """
+            station(0); bond(1000, 0, 1, 0, 20, 5, 40); bond(500, 0, 1, 0, 20, 5, 100); bond(500, 1, 1, 0, 20, 5, 100)
+            basis() -> 0; loss(0, 0, 900); basis() -> -900; reading(0, 0, 0, 5); basis() -> 0; creep(0, 899); basis() -> 1
+            creep(0, 901); basis() -> -1; creep(0, 600); basis() -> 300; pass(21); basis() -> 300
+            layer(0, 100, 100, 1, 70, 100); choose(0, 0, 0); basis() -> 230; part(0, 3, 100); basis() -> 330
+            quota(10); basis() -> 390
+            """);
+        s.run("promise 25: PAYOUTS of all five BONDS, in TRUST or not", "station(0); reading(0, 3, 0, 1);"
+            + Worlds.times(5, "bond(10#, 0, 1, 0, #3, 1, 100)") + "basis() -> 510; pass(30); basis() -> 510; ofBond(2, 2) -> 0; ofBond(3, 2) -> 1");
+        s.runIn(Worlds.SOME, "promise 25: of several of everything", "basis() -> 783");
     }
 }

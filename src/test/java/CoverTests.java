@@ -4,133 +4,51 @@ final class CoverTests {
     }
 
     static void addTo(Suite s) {
-        s.test("promise 6: quota", CoverTests::quota);
-        s.test("promise 7: layer takes the edges", CoverTests::layers);
-        s.test("promise 7: layer refuses", CoverTests::layerRefuses);
-        s.test("promise 8: part", CoverTests::parts);
-        s.test("promise 8: part refuses", CoverTests::partRefuses);
-        s.test("promise 9: retro", CoverTests::retros);
-        s.test("promise 9: retro refuses", CoverTests::retroRefuses);
-    }
-
-    static void quota(Suite t) {
-        Stormbond x = new Stormbond();
-        x.loss(0, 0, 999);
-        x.choose(0, 0, 0);
-        t.due("quota(90)", 0, x.quota(90));
-        t.due("its units", 899, x.sum(2));
-        t.due("quota(33)", 90, x.quota(33));
-        t.due("its units", 329, x.sum(2));
-        t.refusesArgument(x, "quota(91)", () -> x.quota(91));
-        t.refusesArgument(x, "quota(-1)", () -> x.quota(-1));
-        t.refusesArgument(x, "quota(min)", () -> x.quota(Integer.MIN_VALUE));
-        t.due("quota(0)", 33, x.quota(0));
-        t.due("its units", 0, x.sum(2));
-    }
-
-    static void layers(Suite t) {
-        Stormbond x = new Stormbond();
-        t.due("least", 0, x.layer(0, 1, 1, 0, 0, 0));
-        t.due("greatest", 1, x.layer(999999, 999999, 100, 3, 99999, 150));
-        t.due("third", 2, x.layer(10, 20, 30, 1, 40, 50));
-        t.due("the same again", 3, x.layer(10, 20, 30, 1, 40, 50));
-        t.due("fifth", 4, x.layer(10, 20, 30, 2, 40, 50));
-        t.refusesState(x, "sixth", () -> x.layer(10, 20, 30, 2, 40, 50));
-        t.refusesArgument(x, "sixth, wrong too", () -> x.layer(10, 0, 30, 2, 40, 50));
-        t.refusesIndex(x, "no sixth", () -> x.part(5, 0, 0));
-        t.due("fifth is there", 100, x.part(4, 0, 0));
-    }
-
-    static void layerRefuses(Suite t) {
-        Stormbond x = new Stormbond();
-        int[] right = {5, 6, 7, 1, 8, 9};
-        int[] least = {0, 1, 1, 0, 0, 0};
-        int[] most = {999999, 999999, 100, 3, 99999, 150};
-        for (int k = 0; k < 6; k++) {
-            for (int bad : new int[] {least[k] - 1, most[k] + 1, Integer.MIN_VALUE, Integer.MAX_VALUE}) {
-                int[] a = right.clone();
-                a[k] = bad;
-                t.refusesArgument(x, "layer with " + bad + " at " + k,
-                    () -> x.layer(a[0], a[1], a[2], a[3], a[4], a[5]));
-            }
-        }
-        t.due("the first number", 0, x.layer(5, 6, 7, 1, 8, 9));
-    }
-
-    static void parts(Suite t) {
-        Stormbond x = new Stormbond();
-        x.layer(0, 1000, 100, 0, 0, 0);
-        x.layer(0, 1000, 100, 0, 0, 0);
-        x.loss(0, 0, 1000);
-        x.choose(0, 0, 0);
-        t.due("part", 70, x.part(0, 0, 30));
-        t.due("part", 0, x.part(0, 5, 70));
-        t.due("another LAYER", 0, x.part(1, 3, 100));
-        t.due("in place of it", 25, x.part(0, 0, 5));
-        t.due("in place of it, to the full", 0, x.part(0, 5, 95));
-        t.due("0", 5, x.part(0, 0, 0));
-        t.due("reinsurer 0", 0, x.reinsurer(0, 0));
-        t.due("reinsurer 5", 950, x.reinsurer(5, 0));
-        t.due("reinsurer 3", 1000, x.reinsurer(3, 0));
-        t.due("reinsurer 1", 0, x.reinsurer(1, 0));
-    }
-
-    static void partRefuses(Suite t) {
-        Stormbond x = new Stormbond();
-        t.refusesIndex(x, "no LAYER", () -> x.part(0, 0, 0));
-        x.layer(0, 1000, 100, 0, 0, 0);
-        x.loss(0, 0, 1000);
-        x.choose(0, 0, 0);
-        x.part(0, 1, 60);
-        t.refusesState(x, "101", () -> x.part(0, 2, 41));
-        t.refusesArgument(x, "percent 101", () -> x.part(0, 2, 101));
-        t.refusesArgument(x, "percent -1", () -> x.part(0, 2, -1));
-        t.refusesIndex(x, "LAYER 1, percent 101", () -> x.part(1, 2, 101));
-        t.refusesIndex(x, "LAYER -1", () -> x.part(-1, 2, 1));
-        t.refusesIndex(x, "REINSURER 6, percent -1", () -> x.part(0, 6, -1));
-        t.refusesIndex(x, "REINSURER -1", () -> x.part(0, -1, 1));
-        t.due("100", 0, x.part(0, 2, 40));
-        t.refusesState(x, "in place of it, 101", () -> x.part(0, 1, 61));
-        t.refusesArgument(x, "greatest percent", () -> x.part(0, 1, Integer.MAX_VALUE));
-    }
-
-    static void retros(Suite t) {
-        Stormbond x = new Stormbond();
-        x.quota(90);
-        x.loss(0, 0, 1000);
-        x.choose(0, 0, 0);
-        t.due("the first one", 0, x.retro(0, 1, 100, 999999));
-        t.due("taken by 1", 800, x.reinsurer(1, 1));
-        t.due("in place of it", 999999, x.retro(0, 2, 0, 1));
-        t.due("not taken by 1", 0, x.reinsurer(1, 1));
-        t.due("taken by 2", 1, x.reinsurer(2, 1));
-        t.due("none", 1, x.retro(0, 2, 999999, 0));
-        t.due("not taken by 2", 0, x.reinsurer(2, 1));
-        t.due("again", 0, x.retro(0, 5, 999999, 7));
-        t.due("again", 7, x.retro(0, 5, 0, 8));
-        t.due("of another one", 0, x.retro(5, 0, 0, 3));
-        t.due("taken back", 903, x.reinsurer(0, 1));
-    }
-
-    static void retroRefuses(Suite t) {
-        Stormbond x = new Stormbond();
-        x.quota(90);
-        x.loss(0, 0, 1000);
-        x.choose(0, 0, 0);
-        x.retro(0, 1, 0, 5);
-        t.refusesIndex(x, "retro(6, 0, 0, 0)", () -> x.retro(6, 0, 0, 0));
-        t.refusesIndex(x, "retro(-1, 0, 0, 0)", () -> x.retro(-1, 0, 0, 0));
-        t.refusesIndex(x, "retro(0, 6, 0, 0)", () -> x.retro(0, 6, 0, 0));
-        t.refusesIndex(x, "retro(0, -1, 0, 0)", () -> x.retro(0, -1, 0, 0));
-        t.refusesIndex(x, "retro(6, 6, -1, -1)", () -> x.retro(6, 6, -1, -1));
-        t.refusesArgument(x, "retro(0, 0, 0, 1)", () -> x.retro(0, 0, 0, 1));
-        t.refusesArgument(x, "retro(0, 0, 0, 0)", () -> x.retro(0, 0, 0, 0));
-        t.refusesArgument(x, "floor -1", () -> x.retro(0, 1, -1, 1));
-        t.refusesArgument(x, "floor 1000000", () -> x.retro(0, 1, 1000000, 1));
-        t.refusesArgument(x, "floor 1000000 of none", () -> x.retro(0, 1, 1000000, 0));
-        t.refusesArgument(x, "floor -1 of none", () -> x.retro(0, 1, -1, 0));
-        t.refusesArgument(x, "depth -1", () -> x.retro(0, 1, 0, -1));
-        t.refusesArgument(x, "depth 1000000", () -> x.retro(0, 1, 0, 1000000));
-        t.due("the one before", 5, x.retro(0, 1, 999999, 999999));
+        s.run("promise 6: returns the one before; a QUOTA is 0 at first",
+            "quota(90) -> 0; quota(33) -> 90; quota(0) -> 33; quota(0) -> 0; quota(1) -> 0; quota(91) -> argument; quota(2) -> 1");
+        s.run("Terms: QUOTA times its GROUND, divided by 100, rounded down; the rest is its NET", """
+            loss(0, 0, 99); choose(0, 0, 0); quota(1); occurrence(0, 1) -> 0; occurrence(0, 2) -> 99; creep(0, 100)
+            occurrence(0, 1) -> 1; occurrence(0, 2) -> 99; creep(0, 199); occurrence(0, 1) -> 1; occurrence(0, 2) -> 198
+            quota(90); occurrence(0, 1) -> 179; occurrence(0, 2) -> 20; creep(0, 1); occurrence(0, 1) -> 0
+            occurrence(0, 2) -> 1; creep(0, 2); occurrence(0, 1) -> 1; creep(0, 0); occurrence(0, 1) -> 0
+            occurrence(0, 2) -> 0; creep(0, 99999); occurrence(0, 1) -> 89999; quota(0); occurrence(0, 1) -> 0
+            occurrence(0, 2) -> 99999
+            """);
+        s.run("Terms: a QUOTA is taken off each OCCURRENCE, rounded for each, and none off LOSSES in no OCCURRENCE", """
+            quota(50); loss(0, 0, 1); loss(0, 1, 1); loss(0, 2, 3); loss(0, 3, 1000); choose(0, 0, 0); choose(0, 1, 1)
+            choose(0, 2, 2); sum(2) -> 1; reinsurer(0, 0) -> 1; sum(6) -> 1004; unchoose(); sum(2) -> 0
+            choose(0, 2, 3); sum(2) -> 501
+            """);
+        s.run("promise 7: returns its number; LAYERS are numbered from 0, the same again is another one", """
+            layer(0, 1, 1, 0, 0, 0) -> 0; layer(999999, 999999, 100, 3, 99999, 150) -> 1; layer(5, 6, 7, 1, 8, 9) -> 2
+            layer(5, 6, 7, 1, 8, 9) -> 3; layer(-1, 6, 7, 1, 8, 9) -> argument; layer(5, 6, 7, 1, 8, 9) -> 4
+            """);
+        s.run("promise 7: a LAYER of the least numbers", """
+            layer(0, 1, 1, 0, 0, 0); layer(0, 1, 100, 0, 0, 0); loss(0, 0, 1); choose(0, 0, 0); hit(0, 0, 0) -> 1
+            hit(0, 0, 1) -> 0; hit(0, 0, 2) -> 0; hit(0, 0, 3) -> 0; hit(0, 0, 4) -> 0; hit(1, 0, 1) -> 1
+            """);
+        s.run("promise 8: returns how much of the LAYER is not placed then, in percent", """
+            layer(0, 100, 100, 0, 0, 0); layer(0, 100, 100, 0, 0, 0); loss(0, 0, 100); choose(0, 0, 0)
+            part(0, 0, 30) -> 70; part(0, 5, 70) -> 0; part(1, 3, 100) -> 0; part(0, 0, 5) -> 25; part(0, 5, 95) -> 0
+            part(0, 0, 0) -> 5; part(0, 1, 0) -> 5; reinsurer(0, 0) -> 0; reinsurer(5, 0) -> 95
+            reinsurer(3, 0) -> 100; reinsurer(1, 0) -> 0
+            """);
+        s.run("promise 8: there is no such LAYER ahead of the first one, or behind the last one",
+            "part(0, 0, 0) -> index; layer(0, 1, 1, 0, 0, 0); part(0, 0, 0) -> 100; part(1, 0, 0) -> index; part(-1, 0, 0) -> index");
+        s.run("promise 9: returns the DEPTH of the one before, 0 if there was none", """
+            retro(0, 1, 0, 5) -> 0; retro(0, 2, 999999, 999999) -> 5; retro(0, 1, 0, 0) -> 999999; retro(0, 1, 5, 0) -> 0
+            retro(0, 5, 7, 1) -> 0; retro(0, 5, 7, 0) -> 1; retro(5, 0, 0, 3) -> 0; retro(5, 4, 0, 3) -> 3
+            """);
+        s.run("promise 9: both are the same, for each REINSURER, also if it would be no RETRO",
+            Worlds.times(6, "retro(#, #, 0, 1) -> argument; retro(#, #, 0, 0) -> argument") + "retro(5, 4, 0, 1) -> 0; retro(4, 5, 0, 1) -> 0");
+        s.run("promise 9: floor does not matter for no RETRO, but is in its range", """
+            retro(0, 1, 0, 5) -> 0; retro(0, 1, -1, 0) -> argument; retro(0, 1, 1000000, 0) -> argument
+            retro(0, 1, 999999, 0) -> 5; retro(0, 1, 0, -1) -> argument; retro(0, 1, 0, 1000000) -> argument
+            """);
+        s.run("Terms: QUOTA, LAYERS, PARTS and RETROS that are told behind all else count for it", """
+            loss(0, 0, 1000); choose(0, 0, 0); sum(6) -> 1000; quota(10) -> 0; sum(6) -> 900
+            layer(100, 400, 50, 1, 30, 100) -> 0; sum(3) -> 200; sum(5) -> 30; sum(6) -> 930; part(0, 1, 50) -> 50
+            sum(6) -> 830; reinsurer(1, 0) -> 100; retro(1, 2, 40, 50) -> 0; reinsurer(2, 1) -> 50; reinsurer(1, 2) -> 50
+            """);
     }
 }

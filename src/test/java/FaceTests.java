@@ -82,7 +82,7 @@ final class FaceTests {
             }
         }
         for (Method m : Stormbond.class.getDeclaredMethods()) {
-            if (!Modifier.isPublic(m.getModifiers())) {
+            if (!Modifier.isPublic(m.getModifiers()) && !m.isSynthetic()) {
                 t.due(m.getName() + " is private", 1, Modifier.isPrivate(m.getModifiers()) ? 1 : 0);
                 t.due(m.getName() + " bears the name of a public one", 0, names.contains(m.getName()) ? 1 : 0);
             }
@@ -97,7 +97,7 @@ final class FaceTests {
         int[] values = {-1, 0, 1, 2};
         int open = 0;
         for (Field f : Stormbond.class.getDeclaredFields()) {
-            if (!Modifier.isPrivate(f.getModifiers())) {
+            if (!Modifier.isPrivate(f.getModifiers()) && !f.isSynthetic()) {
                 open++;
             }
         }
@@ -119,8 +119,8 @@ final class FaceTests {
         t.due("it takes nothing", 0, all[0].getParameterCount());
         t.due("it throws nothing", 0, all[0].getExceptionTypes().length);
         for (Class<?> c : Stormbond.class.getDeclaredClasses()) {
-            t.due(c.getSimpleName() + " is static", 1, Modifier.isStatic(c.getModifiers()) ? 1 : 0);
-            t.due(c.getSimpleName() + " is not public", 0, Modifier.isPublic(c.getModifiers()) ? 1 : 0);
+            boolean isOpen = Modifier.isPublic(c.getModifiers()) || Modifier.isProtected(c.getModifiers());
+            t.due(c.getSimpleName() + " is private or package-visible", 0, isOpen ? 1 : 0);
         }
     }
 }

@@ -7,10 +7,6 @@ final class Suite {
         void run(Suite t) throws Exception;
     }
 
-    interface Call {
-        long get() throws Exception;
-    }
-
     private final List<String> faults = new ArrayList<>();
     private int passed;
     private int failed;
@@ -19,7 +15,7 @@ final class Suite {
         faults.clear();
         try {
             body.run(this);
-        } catch (Exception e) {
+        } catch (Exception | Error e) {
             faults.add("the test itself ended with " + e);
         }
         if (faults.isEmpty()) {
@@ -33,6 +29,30 @@ final class Suite {
         }
     }
 
+    /** A test that is one run of calls on a new object. */
+    void run(String name, String calls) {
+        test(name, t -> new Run(t).go(calls));
+    }
+
+    /** A test that is one run of calls behind those of a world. */
+    void runIn(String world, String name, String calls) {
+        test(name, t -> new Run(t).go(world).go(calls));
+    }
+
+    /** A test of a range: # in the call stands for the argument; each number is told to a world of its own. */
+    void range(String world, String name, int least, int most, String refusal, String call, Object forLeast,
+            Object forMost) {
+        test(name, t -> {
+            new Run(t).go(world).go(call.replace("#", "" + least) + " -> " + forLeast);
+            new Run(t).go(world).go(call.replace("#", "" + most) + " -> " + forMost);
+            Run refused = new Run(t).go(world);
+            for (long wrong : new long[] {least - 1L, most + 1L, Integer.MIN_VALUE, Integer.MAX_VALUE}) {
+                refused.go(call.replace("#", "" + wrong) + " -> " + refusal);
+            }
+            refused.go(call.replace("#", "" + least) + " -> " + forLeast);
+        });
+    }
+
     void due(String call, long want, long got) {
         if (got != want) {
             faults.add(call + " answered " + got + ", due is " + want);
@@ -41,34 +61,6 @@ final class Suite {
 
     void fault(String what) {
         faults.add(what);
-    }
-
-    /** The call throws just this class, and what the object answers is the same behind it. */
-    void refuses(Class<? extends Exception> want, Stormbond x, String call, Call body) {
-        long[] ahead = Answers.of(x);
-        try {
-            long got = body.get();
-            faults.add(call + " answered " + got + ", due is " + want.getSimpleName());
-        } catch (Exception e) {
-            if (e.getClass() != want) {
-                faults.add(call + " threw " + e + ", due is " + want.getSimpleName());
-            }
-        }
-        if (!java.util.Arrays.equals(ahead, Answers.of(x))) {
-            faults.add(call + " changed something");
-        }
-    }
-
-    void refusesIndex(Stormbond x, String call, Call body) {
-        refuses(IndexOutOfBoundsException.class, x, call, body);
-    }
-
-    void refusesArgument(Stormbond x, String call, Call body) {
-        refuses(IllegalArgumentException.class, x, call, body);
-    }
-
-    void refusesState(Stormbond x, String call, Call body) {
-        refuses(IllegalStateException.class, x, call, body);
     }
 
     boolean end() {

@@ -1,353 +1,275 @@
-/** Promises 17 to 21: what is due and kept, and the SPIRAL. */
+/** Promises 17 to 21: what is due and kept, and the SPIRAL, and what "Terms" says of the tower and REINSURERS. */
 final class TowerTests {
     private TowerTests() {
     }
 
     static void addTo(Suite s) {
-        s.test("promise 17: occurrence", TowerTests::occurrences);
-        s.test("promise 17: the order of settling", TowerTests::order);
-        s.test("promise 17: occurrence refuses", TowerTests::occurrenceRefuses);
-        s.test("promise 18: hit, what is left and reinstated", TowerTests::hits);
-        s.test("promise 18: hit by order, not by number", TowerTests::hitsByOrder);
-        s.test("promise 18: hit at its edges", TowerTests::hitEdges);
-        s.test("promise 18: what is paid for reinstating is rounded once", TowerTests::charges);
-        s.test("promise 18: the greatest numbers", TowerTests::greatest);
-        s.test("promise 18: hit refuses", TowerTests::hitRefuses);
-        s.test("promise 19: sum", TowerTests::sums);
-        s.test("promise 19: what the insurer keeps can be below 0", TowerTests::keptBelowNought);
-        s.test("promise 19: sum refuses", TowerTests::sumRefuses);
-        s.test("promise 20: reinsurer bears, rounded for each OCCURRENCE", TowerTests::bears);
-        s.test("promise 20: reinsurer bears nothing of what was taken back", TowerTests::bearsTakenBack);
-        s.test("promise 20: reinsurer bears of eight OCCURRENCES and five LAYERS", TowerTests::bearsMost);
-        s.test("promise 20: reinsurer at the end of the SPIRAL", TowerTests::spiral);
-        s.test("promise 20: NET behind the 40th round", TowerTests::endlessSpiral);
-        s.test("promise 20: reinsurer refuses", TowerTests::reinsurerRefuses);
-        s.test("promise 21: rounds", TowerTests::rounds);
+        addOccurrences(s);
+        addOrder(s);
+        addHits(s);
+        addLeft(s);
+        addReinstated(s);
+        addSums(s);
+        addBearing(s);
+        addSpiral(s);
+        addRounds(s);
     }
 
-    static void occurrences(Suite t) {
-        Stormbond x = new Stormbond();
-        x.loss(1, 10, 333);
-        x.loss(1, 177, 444);
-        x.loss(1, 178, 5000);
-        x.loss(1, 9, 6000);
-        x.loss(0, 50, 7000);
-        x.quota(10);
-        x.layer(100, 400, 50, 1, 100, 100);
-        x.layer(500, 1000, 33, 0, 100, 100);
-        x.choose(1, 10, 177);
-        t.due("GROUND", 777, x.occurrence(0, 0));
-        t.due("QUOTA", 77, x.occurrence(0, 1));
-        t.due("NET", 700, x.occurrence(0, 2));
-        t.due("paid", 200 + 66, x.occurrence(0, 3));
-        t.due("reinstating", 100, x.occurrence(0, 4));
-        t.due("place", 0, x.occurrence(0, 5));
-        x.choose(0, 0, 49);
-        for (int what = 0; what < 5; what++) {
-            t.due("an empty one", 0, x.occurrence(1, what));
-        }
+    private static void addOccurrences(Suite s) {
+        s.run("promise 17: `what`: 0 its GROUND, 1 the QUOTA, 2 its NET, 3 what LAYERS pay, 4 reinstating, 5 its place", """
+            loss(1, 10, 333); loss(1, 177, 444); loss(1, 178, 5000); loss(1, 9, 6000); loss(0, 50, 7000); quota(10)
+            layer(100, 400, 50, 1, 100, 100); layer(500, 1000, 33, 0, 100, 100); choose(1, 10, 177)
+            occurrence(0, 0) -> 777; occurrence(0, 1) -> 77; occurrence(0, 2) -> 700; occurrence(0, 3) -> 266
+            occurrence(0, 4) -> 100; occurrence(0, 5) -> 0
+            """);
+        s.runIn(Worlds.SOME, "promises 17 and 18: each OCCURRENCE and LAYER of several", """
+            occurrence(0, 0) -> 1600; occurrence(0, 1) -> 160; occurrence(0, 2) -> 1440; occurrence(0, 3) -> 1210
+            occurrence(0, 4) -> 7; occurrence(0, 5) -> 1; occurrence(1, 0) -> 500; occurrence(1, 1) -> 50
+            occurrence(1, 2) -> 450; occurrence(1, 3) -> 465; occurrence(1, 4) -> 52; occurrence(1, 5) -> 0
+            hit(0, 0, 0) -> 400; hit(0, 0, 1) -> 360; hit(0, 0, 2) -> 50; hit(0, 0, 3) -> 7; hit(0, 0, 4) -> 50
+            hit(0, 1, 0) -> 350; hit(0, 1, 1) -> 315; hit(0, 1, 2) -> 350; hit(0, 1, 3) -> 52; hit(0, 1, 4) -> 450
+            hit(1, 0, 0) -> 850; hit(1, 0, 1) -> 850; hit(1, 0, 2) -> 0; hit(1, 0, 3) -> 0; hit(1, 0, 4) -> 0
+            hit(1, 1, 0) -> 150; hit(1, 1, 1) -> 150; hit(1, 1, 2) -> 0; hit(1, 1, 3) -> 0; hit(1, 1, 4) -> 850
+            """);
+        s.run("Terms: the greatest numbers that can come together", Worlds.times(40, "loss(0, #, 99999)") + """
+            layer(0, 999999, 100, 3, 99999, 150); choose(0, 0, 39); occurrence(0, 0) -> 3999960; hit(0, 0, 0) -> 999999
+            hit(0, 0, 1) -> 999999; hit(0, 0, 2) -> 999999; hit(0, 0, 3) -> 149998; hit(0, 0, 4) -> 2999997
+            quota(90); occurrence(0, 1) -> 3599964; occurrence(0, 2) -> 399996; hit(0, 0, 3) -> 59998
+            layer(399995, 1, 100, 3, 99999, 150); hit(1, 0, 0) -> 1; hit(1, 0, 3) -> 149998; hit(1, 0, 4) -> 3
+            """);
     }
 
-    static void order(Suite t) {
-        Stormbond x = new Stormbond();
-        x.choose(2, 100, 100);
-        x.choose(0, 100, 150);
-        x.choose(1, 100, 101);
-        x.choose(0, 99, 99);
-        x.choose(2, 0, 99);
-        x.choose(1, 2199, 2199);
-        int[] want = {4, 2, 3, 1, 0, 5};
-        for (int i = 0; i < want.length; i++) {
-            t.due("place of " + i, want[i], x.occurrence(i, 5));
-        }
-        x.unchoose();
-        x.unchoose();
-        t.due("place of 3", 0, x.occurrence(3, 5));
-        t.due("place of 0", 3, x.occurrence(0, 5));
+    private static void addOrder(Suite s) {
+        s.run("Terms: OCCURRENCES are settled by the first HOURS of their windows, of several with the same by PERILS", """
+            choose(2, 100, 100); choose(0, 100, 150); choose(1, 100, 101); choose(0, 99, 99); choose(2, 0, 99)
+            choose(1, 2199, 2199); occurrence(0, 5) -> 4; occurrence(1, 5) -> 2; occurrence(2, 5) -> 3
+            occurrence(3, 5) -> 1; occurrence(4, 5) -> 0; occurrence(5, 5) -> 5; unchoose(); unchoose()
+            occurrence(0, 5) -> 3; occurrence(1, 5) -> 1; occurrence(2, 5) -> 2; occurrence(3, 5) -> 0
+            """);
+        s.run("Terms: settled by first HOURS, not by last ones or by numbers", """
+            layer(0, 100, 100, 0, 0, 0); loss(1, 120, 70); loss(0, 50, 60); choose(1, 11, 120); choose(0, 10, 50)
+            choose(2, 0, 0); hit(0, 1, 0) -> 60; hit(0, 1, 4) -> 40; hit(0, 0, 0) -> 40; hit(0, 0, 4) -> 0
+            hit(0, 2, 4) -> 100; occurrence(0, 5) -> 2; occurrence(1, 5) -> 1; occurrence(2, 5) -> 0
+            """);
+        s.run("Terms: a first HOUR earlier by one goes ahead of a lower PERIL",
+            "choose(2, 9, 9); choose(0, 10, 10); choose(1, 10, 20); occurrence(0, 5) -> 0; occurrence(1, 5) -> 1; occurrence(2, 5) -> 2");
+        s.run("Terms: of 8 OCCURRENCES, told from the last to be settled to the first one", """
+            choose(2, 400, 400); choose(1, 400, 400); choose(0, 400, 400); choose(2, 300, 300); choose(1, 300, 300)
+            choose(0, 300, 300); choose(2, 0, 0); choose(1, 0, 0); occurrence(0, 5) -> 7; occurrence(1, 5) -> 6
+            occurrence(2, 5) -> 5; occurrence(3, 5) -> 4; occurrence(4, 5) -> 3; occurrence(5, 5) -> 2
+            occurrence(6, 5) -> 1; occurrence(7, 5) -> 0
+            """);
     }
 
-    static void occurrenceRefuses(Suite t) {
-        Stormbond x = new Stormbond();
-        t.refusesIndex(x, "none", () -> x.occurrence(0, 0));
-        x.choose(0, 0, 0);
-        t.refusesIndex(x, "occurrence(1, 0)", () -> x.occurrence(1, 0));
-        t.refusesIndex(x, "occurrence(-1, 9)", () -> x.occurrence(-1, 9));
-        t.refusesArgument(x, "occurrence(0, 6)", () -> x.occurrence(0, 6));
-        t.refusesArgument(x, "occurrence(0, -1)", () -> x.occurrence(0, -1));
+    private static void addHits(Suite s) {
+        s.run("Terms: HIT by what the NET is above its FLOOR, 0 if it is not, at most its DEPTH", """
+            layer(100, 50, 100, 3, 0, 0); loss(0, 0, 0); choose(0, 0, 0); hit(0, 0, 0) -> 0; creep(0, 99); hit(0, 0, 0) -> 0
+            creep(0, 100); hit(0, 0, 0) -> 0; hit(0, 0, 4) -> 200; creep(0, 101); hit(0, 0, 0) -> 1
+            hit(0, 0, 4) -> 199; creep(0, 149); hit(0, 0, 0) -> 49; creep(0, 150); hit(0, 0, 0) -> 50; creep(0, 151)
+            hit(0, 0, 0) -> 50; hit(0, 0, 4) -> 150; creep(0, 99999); hit(0, 0, 0) -> 50; hit(0, 0, 4) -> 150
+            """);
+        s.run("Terms: HIT by the NET, not by the GROUND", """
+            layer(100, 50, 100, 0, 0, 0); quota(50); loss(0, 0, 200); choose(0, 0, 0); hit(0, 0, 0) -> 0; creep(0, 201)
+            hit(0, 0, 0) -> 1; creep(0, 299); hit(0, 0, 0) -> 50; creep(0, 298); hit(0, 0, 0) -> 49
+            """);
+        s.run("promise 7, `floor`: 0 to 999999, the HIT begins there",
+            Worlds.times(10, "loss(0, 0, 99999)") + """
+            loss(0, 0, 9); choose(0, 0, 0); layer(999999, 1, 100, 0, 0, 0); layer(0, 999999, 100, 0, 0, 0)
+            layer(999998, 5, 100, 0, 0, 0); occurrence(0, 0) -> 999999; hit(0, 0, 0) -> 0; hit(1, 0, 0) -> 999999
+            hit(2, 0, 0) -> 1; creep(10, 10); hit(0, 0, 0) -> 1; hit(1, 0, 0) -> 999999; hit(1, 0, 4) -> 0
+            hit(2, 0, 0) -> 2; creep(10, 8); hit(0, 0, 0) -> 0; hit(1, 0, 0) -> 999998; hit(2, 0, 0) -> 0
+            """);
+        s.run("Terms: it pays SHARE times the HIT, divided by 100, rounded down", """
+            layer(0, 1000, 1, 0, 0, 0); layer(0, 1000, 99, 0, 0, 0); layer(0, 1000, 100, 0, 0, 0); loss(0, 0, 99)
+            choose(0, 0, 0); hit(0, 0, 1) -> 0; hit(1, 0, 1) -> 98; hit(2, 0, 1) -> 99; creep(0, 100); hit(0, 0, 1) -> 1
+            hit(1, 0, 1) -> 99; creep(0, 1); hit(0, 0, 1) -> 0; hit(1, 0, 1) -> 0; hit(2, 0, 1) -> 1
+            creep(0, 199); hit(0, 0, 1) -> 1; occurrence(0, 3) -> 397
+            """);
+        s.run("Terms: for each LAYER by itself: one below, one above, one that overlaps both", """
+            layer(0, 100, 100, 0, 0, 0); layer(100, 100, 100, 0, 0, 0); layer(50, 100, 100, 0, 0, 0); loss(0, 0, 120)
+            loss(0, 1, 120); choose(0, 0, 0); choose(0, 1, 1); hit(0, 0, 0) -> 100; hit(1, 0, 0) -> 20; hit(2, 0, 0) -> 70
+            hit(0, 1, 0) -> 0; hit(1, 1, 0) -> 20; hit(2, 1, 0) -> 30; occurrence(0, 3) -> 190; occurrence(1, 3) -> 50
+            sum(3) -> 240
+            """);
     }
 
-    static void hits(Suite t) {
-        Stormbond x = new Stormbond();
-        x.layer(100, 1000, 80, 1, 500, 50);
-        for (int i = 0; i < 4; i++) {
-            x.loss(0, 100 * i, 800);
-            x.choose(0, 100 * i, 100 * i);
-        }
-        int[][] want = {{700, 560, 700, 175, 1300}, {700, 560, 300, 75, 600}, {600, 480, 0, 0, 0}, {0, 0, 0, 0, 0}};
-        for (int o = 0; o < 4; o++) {
-            for (int what = 0; what < 5; what++) {
-                t.due("hit(0, " + o + ", " + what + ")", want[o][what], x.hit(0, o, what));
+    private static void addLeft(Suite s) {
+        for (int again = 0; again < 4; again++) {
+            StringBuilder b = new StringBuilder("layer(10, 100, 50, " + again + ", 0, 0);");
+            for (int i = 0; i < 6; i++) {
+                b.append("loss(0, " + i + ", 200); choose(0, " + i + ", " + i + ");");
             }
+            for (int i = 0; i < 6; i++) {
+                int hit = i <= again ? 100 : 0;
+                b.append("hit(0, " + i + ", 0) -> " + hit + "; hit(0, " + i + ", 1) -> " + hit / 2 + ";");
+                b.append("hit(0, " + i + ", 4) -> " + 100 * Math.max(0, again - i) + ";");
+            }
+            s.run("Terms: it has DEPTH times 1 more than its REINSTATEMENTS to begin with, " + again, b.toString());
         }
-        t.due("paid", 480, x.occurrence(2, 3));
-        t.due("sum(5)", 250, x.sum(5));
+        s.run("Terms: HIT at most what it has left, and so much less by each HIT, whatever it pays", """
+            layer(0, 100, 1, 1, 0, 0); loss(0, 0, 90); loss(0, 1, 70); loss(0, 2, 90); loss(0, 3, 90); choose(0, 0, 0)
+            choose(0, 1, 1); choose(0, 2, 2); choose(0, 3, 3); hit(0, 0, 4) -> 110; hit(0, 1, 4) -> 40
+            hit(0, 2, 0) -> 40; hit(0, 2, 1) -> 0; hit(0, 2, 4) -> 0; hit(0, 3, 0) -> 0; hit(0, 3, 4) -> 0
+            creep(1, 20); hit(0, 2, 0) -> 90; hit(0, 2, 4) -> 0; hit(0, 3, 0) -> 0; creep(1, 19); hit(0, 2, 4) -> 1
+            hit(0, 3, 0) -> 1
+            """);
+        s.run("Terms: an OCCURRENCE that does not HIT leaves what was left", """
+            layer(50, 100, 100, 0, 0, 0); loss(0, 0, 80); loss(0, 1, 50); loss(0, 2, 200); choose(0, 0, 0); choose(0, 1, 1)
+            choose(0, 2, 2); hit(0, 0, 4) -> 70; hit(0, 1, 0) -> 0; hit(0, 1, 4) -> 70; hit(0, 2, 0) -> 70; hit(0, 2, 4) -> 0
+            """);
     }
 
-    static void hitsByOrder(Suite t) {
-        Stormbond x = new Stormbond();
-        x.layer(0, 1000, 100, 0, 0, 0);
-        x.loss(0, 500, 700);
-        x.loss(2, 400, 600);
-        x.loss(0, 400, 200);
-        x.choose(0, 500, 500);
-        x.choose(2, 400, 401);
-        t.due("the first to be settled", 600, x.hit(0, 1, 0));
-        t.due("what it leaves", 400, x.hit(0, 1, 4));
-        t.due("the second", 400, x.hit(0, 0, 0));
-        t.due("what it leaves", 0, x.hit(0, 0, 4));
-        x.choose(0, 400, 400);
-        t.due("the first PERIL", 200, x.hit(0, 2, 0));
-        t.due("then QUAKE", 600, x.hit(0, 1, 0));
-        t.due("then the last", 200, x.hit(0, 0, 0));
-        x.unchoose();
-        t.due("taken back", 400, x.hit(0, 0, 0));
+    private static void addReinstated(Suite s) {
+        s.run("Terms: as much is reinstated as there are DEPTH times REINSTATEMENTS not yet reinstated, or all of it", """
+            layer(100, 1000, 80, 1, 500, 50); loss(0, 0, 800); loss(0, 100, 800); loss(0, 200, 800); loss(0, 300, 800)
+            choose(0, 0, 0); choose(0, 100, 100); choose(0, 200, 200); choose(0, 300, 300)
+            hit(0, 0, 0) -> 700; hit(0, 0, 1) -> 560; hit(0, 0, 2) -> 700; hit(0, 0, 3) -> 175; hit(0, 0, 4) -> 1300
+            hit(0, 1, 0) -> 700; hit(0, 1, 1) -> 560; hit(0, 1, 2) -> 300; hit(0, 1, 3) -> 75; hit(0, 1, 4) -> 600
+            hit(0, 2, 0) -> 600; hit(0, 2, 1) -> 480; hit(0, 2, 2) -> 0; hit(0, 2, 3) -> 0; hit(0, 2, 4) -> 0
+            hit(0, 3, 0) -> 0; hit(0, 3, 1) -> 0; hit(0, 3, 2) -> 0; hit(0, 3, 3) -> 0; hit(0, 3, 4) -> 0; sum(5) -> 250
+            """);
+        s.run("Terms: reinstated to the last of it, by HITS that are just as much, one less and one more", """
+            layer(0, 100, 100, 1, 100, 100); loss(0, 0, 60); loss(0, 1, 40); loss(0, 2, 5); choose(0, 0, 0); choose(0, 1, 1)
+            choose(0, 2, 2); hit(0, 0, 2) -> 60; hit(0, 1, 2) -> 40; hit(0, 2, 2) -> 0; creep(1, 39); hit(0, 1, 2) -> 39
+            hit(0, 2, 2) -> 1; creep(1, 41); hit(0, 1, 2) -> 40; hit(0, 2, 2) -> 0; sum(5) -> 100
+            """);
+        s.run("Terms: without REINSTATEMENTS nothing is reinstated, nor paid for it", """
+            layer(0, 100, 100, 0, 99999, 150); loss(0, 0, 60); choose(0, 0, 0); hit(0, 0, 0) -> 60; hit(0, 0, 2) -> 0
+            hit(0, 0, 3) -> 0; sum(5) -> 0; hit(0, 0, 4) -> 40
+            """);
+        s.run("Terms: 3 REINSTATEMENTS, through more OCCURRENCES than that", """
+            layer(0, 10, 100, 3, 100, 100)
+            """ + Worlds.times(7, "loss(0, #, 6); choose(0, #, #)") + """
+            hit(0, 4, 2) -> 6; hit(0, 4, 4) -> 10; hit(0, 5, 0) -> 6; hit(0, 5, 2) -> 0; hit(0, 6, 0) -> 4
+            hit(0, 6, 2) -> 0; hit(0, 6, 4) -> 0; sum(5) -> 300
+            """);
+        s.run("Terms: premium times what is reinstated times RATE, divided by 100 times DEPTH, rounded once", """
+            layer(0, 7, 1, 1, 99, 99); loss(0, 0, 5); choose(0, 0, 0); hit(0, 0, 3) -> 70; occurrence(0, 4) -> 70
+            layer(0, 100, 100, 1, 1, 100); layer(0, 5, 100, 1, 1, 99); layer(0, 5, 100, 1, 1, 100)
+            layer(0, 5, 100, 1, 1, 150); hit(1, 0, 3) -> 0; hit(2, 0, 3) -> 0; hit(3, 0, 3) -> 1; hit(4, 0, 3) -> 1
+            creep(0, 4); hit(3, 0, 3) -> 0; hit(4, 0, 3) -> 1; creep(0, 3); hit(4, 0, 3) -> 0; creep(0, 100); hit(1, 0, 3) -> 1
+            """);
+        s.run("promise 7, `premium` and `rate` of 0: nothing is paid for reinstating", """
+            layer(0, 10, 100, 3, 0, 150); layer(0, 10, 100, 3, 99999, 0); loss(0, 0, 10); choose(0, 0, 0); hit(0, 0, 2) -> 10
+            hit(0, 0, 3) -> 0; hit(1, 0, 2) -> 10; hit(1, 0, 3) -> 0; occurrence(0, 4) -> 0; sum(5) -> 0
+            """);
+        s.run("promise 7, `premium` 99999 and `rate` 150, of the least DEPTH",
+            "layer(0, 1, 1, 3, 99999, 150); loss(0, 0, 1); choose(0, 0, 0); hit(0, 0, 1) -> 0; hit(0, 0, 3) -> 149998; sum(6) -> 149999");
     }
 
-    static void hitEdges(Suite t) {
-        Stormbond x = new Stormbond();
-        x.layer(100, 50, 99, 3, 10, 100);
-        x.loss(0, 0, 100);
-        x.choose(0, 0, 0);
-        t.due("at the FLOOR", 0, x.hit(0, 0, 0));
-        t.due("left", 200, x.hit(0, 0, 4));
-        x.creep(0, 99);
-        t.due("below the FLOOR", 0, x.hit(0, 0, 0));
-        x.creep(0, 101);
-        t.due("above by 1", 1, x.hit(0, 0, 0));
-        t.due("which pays nothing", 0, x.hit(0, 0, 1));
-        x.creep(0, 150);
-        t.due("the DEPTH", 50, x.hit(0, 0, 0));
-        t.due("pays", 49, x.hit(0, 0, 1));
-        x.creep(0, 151);
-        t.due("at most the DEPTH", 50, x.hit(0, 0, 0));
-        t.due("left", 150, x.hit(0, 0, 4));
+    private static void addSums(Suite s) {
+        s.run("promise 19: `what`: 0 all LOSSES to 7 what REINSURERS bear directly, the QUOTA with it", """
+            loss(0, 10, 1000); loss(0, 90, 500); loss(1, 10, 777); quota(20); layer(100, 300, 90, 1, 60, 100)
+            layer(200, 600, 100, 0, 60, 100); choose(0, 10, 81); choose(1, 0, 100); part(0, 1, 33); part(0, 0, 33)
+            part(1, 2, 100); sum(0) -> 2277; sum(1) -> 500; sum(2) -> 355; sum(3) -> 1140; sum(4) -> 184; sum(5) -> 60
+            sum(6) -> 1026; sum(7) -> 1311
+            """);
+        s.runIn(Worlds.SOME, "promise 19: of several LAYERS, PARTS and OCCURRENCES", """
+            sum(0) -> 2400; sum(1) -> 300; sum(2) -> 210; sum(3) -> 1675; sum(4) -> 68; sum(5) -> 59; sum(6) -> 642
+            sum(7) -> 1817
+            """);
+        s.run("promise 19: 6 can be below 0, as LAYERS may overlap", """
+            loss(0, 10, 1000); choose(0, 10, 10); layer(0, 1000, 100, 1, 100, 10); part(0, 0, 100); sum(6) -> 10
+            layer(0, 1000, 100, 1, 100, 10); part(1, 1, 1); sum(6) -> 10; part(1, 1, 2); sum(6) -> 0; part(1, 1, 3); sum(6) -> -10
+            layer(0, 1000, 100, 1, 100, 10); layer(0, 1000, 100, 1, 100, 10); layer(0, 1000, 100, 1, 100, 10)
+            part(1, 1, 100); part(2, 2, 100); part(3, 3, 100); part(4, 4, 100); sum(3) -> 5000; sum(4) -> 0
+            sum(5) -> 50; sum(6) -> -3950; sum(7) -> 5000; basis() -> 3950
+            """);
+        s.run("promise 19: 4, of what LAYERS pay what no REINSURER bears: to 0 where PARTS are 100 together", """
+            layer(0, 100, 100, 0, 0, 0); loss(0, 0, 100); choose(0, 0, 0); sum(4) -> 100; part(0, 0, 1); sum(4) -> 99
+            part(0, 5, 98); sum(4) -> 1; part(0, 0, 2); sum(4) -> 0; quota(90); sum(4) -> 1; sum(3) -> 10; sum(7) -> 99
+            """);
+        s.run("promise 19: all LOSSES are in OCCURRENCES, or none, at the edges of a window",
+            "loss(0, 5, 3); loss(0, 6, 4); choose(0, 4, 4); sum(1) -> 7; choose(0, 5, 5); sum(1) -> 4; choose(0, 6, 77); sum(1) -> 0; sum(0) -> 7");
     }
 
-    static void charges(Suite t) {
-        Stormbond x = new Stormbond();
-        x.layer(0, 7, 1, 1, 99, 99);
-        x.loss(0, 0, 5);
-        x.choose(0, 0, 0);
-        t.due("99 * 5 * 99 / 700", 70, x.hit(0, 0, 3));
-        t.due("by the OCCURRENCE", 70, x.occurrence(0, 4));
-    }
-
-    static void greatest(Suite t) {
-        Stormbond x = new Stormbond();
-        x.layer(0, 999999, 100, 3, 99999, 150);
-        for (int i = 0; i < 40; i++) {
-            x.loss(0, i, 99999);
+    private static void addBearing(Suite s) {
+        s.run("Terms: of what a LAYER pays for an OCCURRENCE a REINSURER bears PART times that, divided by 100, each rounded", """
+            layer(0, 99, 100, 1, 0, 0); layer(0, 99, 100, 1, 0, 0); loss(0, 0, 99); loss(0, 1, 99); choose(0, 0, 0)
+            choose(0, 1, 1); part(0, 1, 50); part(1, 1, 50); reinsurer(1, 0) -> 196; sum(4) -> 200; quota(50)
+            reinsurer(0, 0) -> 98; reinsurer(1, 0) -> 100; part(0, 0, 10); reinsurer(0, 0) -> 108
+            """);
+        s.run("Terms: a PART of 1 of 99 units is nothing, of 100 it is 1; a PART of 100 is all", """
+            layer(0, 1000, 100, 0, 0, 0); loss(0, 0, 99); choose(0, 0, 0); part(0, 1, 1); part(0, 2, 99); reinsurer(1, 0) -> 0
+            reinsurer(2, 0) -> 98; sum(4) -> 1; creep(0, 100); reinsurer(1, 0) -> 1; reinsurer(2, 0) -> 99; sum(4) -> 0
+            part(0, 1, 0); part(0, 2, 100); creep(0, 99); reinsurer(2, 0) -> 99; reinsurer(1, 0) -> 0
+            """);
+        s.run("Terms: PART of what the LAYER pays, not of its HIT",
+            "layer(0, 100, 50, 0, 0, 0); loss(0, 0, 100); choose(0, 0, 0); part(0, 3, 50); reinsurer(3, 0) -> 25; sum(4) -> 25");
+        s.run("Terms: the QUOTA of all OCCURRENCES is borne by the REINSURER 0, as well as its PARTS", """
+            quota(10); loss(0, 0, 100); loss(0, 1, 205); loss(0, 2, 999); choose(0, 0, 0); choose(0, 1, 1)
+            reinsurer(0, 0) -> 30; reinsurer(1, 0) -> 0; layer(0, 50, 100, 3, 0, 0); part(0, 0, 100); reinsurer(0, 0) -> 130
+            sum(7) -> 130
+            """);
+        s.run("promise 20: of what was taken back nothing is borne any more", """
+            layer(0, 100, 100, 3, 10, 100); part(0, 4, 50); loss(0, 0, 60); loss(0, 1, 80); choose(0, 0, 0); choose(0, 1, 1)
+            reinsurer(4, 0) -> 70; sum(5) -> 14; unchoose(); reinsurer(4, 0) -> 30; sum(3) -> 60; sum(4) -> 30
+            sum(5) -> 6; sum(7) -> 30
+            """);
+        StringBuilder most = new StringBuilder();
+        for (int i = 0; i < 5; i++) {
+            most.append("layer(0, 10, 100, 3, 0, 0); part(" + i + ", " + (i + 1) + ", 100);");
         }
-        x.choose(0, 0, 39);
-        t.due("GROUND", 3999960, x.occurrence(0, 0));
-        t.due("HIT", 999999, x.hit(0, 0, 0));
-        t.due("reinstated", 999999, x.hit(0, 0, 2));
-        t.due("paid for that", 149998, x.hit(0, 0, 3));
-        t.due("left", 2999997, x.hit(0, 0, 4));
-        x.quota(90);
-        t.due("QUOTA", 3599964, x.occurrence(0, 1));
-        t.due("NET", 399996, x.occurrence(0, 2));
-        t.due("paid for 399996", 59998, x.hit(0, 0, 3));
-    }
-
-    static void hitRefuses(Suite t) {
-        Stormbond x = new Stormbond();
-        x.layer(0, 10, 10, 0, 0, 0);
-        t.refusesIndex(x, "no OCCURRENCE", () -> x.hit(0, 0, 0));
-        x.choose(0, 0, 0);
-        t.refusesIndex(x, "hit(1, 0, 0)", () -> x.hit(1, 0, 0));
-        t.refusesIndex(x, "hit(-1, 0, 0)", () -> x.hit(-1, 0, 0));
-        t.refusesIndex(x, "hit(0, 1, 5)", () -> x.hit(0, 1, 5));
-        t.refusesIndex(x, "hit(0, -1, 0)", () -> x.hit(0, -1, 0));
-        t.refusesArgument(x, "hit(0, 0, 5)", () -> x.hit(0, 0, 5));
-        t.refusesArgument(x, "hit(0, 0, -1)", () -> x.hit(0, 0, -1));
-        Stormbond y = new Stormbond();
-        y.choose(0, 0, 0);
-        t.refusesIndex(y, "no LAYER", () -> y.hit(0, 0, 0));
-    }
-
-    static void sums(Suite t) {
-        Stormbond x = new Stormbond();
-        x.loss(0, 10, 1000);
-        x.loss(0, 90, 500);
-        x.loss(1, 10, 777);
-        x.quota(20);
-        x.layer(100, 300, 90, 1, 60, 100);
-        x.layer(200, 600, 100, 0, 60, 100);
-        x.choose(0, 10, 81);
-        x.choose(1, 0, 100);
-        x.part(0, 1, 33);
-        x.part(0, 0, 33);
-        x.part(1, 2, 100);
-        // NETS 800 and 622; the LAYERS are HIT by 300 and 600, then by 300 and 0.
-        int quota = 200 + 155;
-        int paid = 270 + 600 + 270;
-        int borne = quota + 4 * 89 + 600;
-        int[] want = {2277, 500, quota, paid, paid - 600 - 4 * 89, 60, 2277 - borne + 60, borne};
-        for (int what = 0; what < 8; what++) {
-            t.due("sum(" + what + ")", want[what], x.sum(what));
+        for (int i = 0; i < 8; i++) {
+            most.append("loss(0, " + i + ", " + (i + 1) + "); choose(0, " + i + ", " + i + ");");
         }
+        s.run("promise 20: of 8 OCCURRENCES and 5 LAYERS, the last of each with them", most + Worlds.times(5, "hit(#, 7, 4) -> 4")
+            + "reinsurer(1, 0) -> 36; reinsurer(2, 0) -> 36; reinsurer(3, 0) -> 36; reinsurer(4, 0) -> 36; reinsurer(5, 0) -> 36; sum(3) -> 180");
     }
 
-    static void keptBelowNought(Suite t) {
-        Stormbond x = new Stormbond();
-        x.loss(0, 10, 1000);
-        x.choose(0, 10, 10);
-        for (int layer = 0; layer < 5; layer++) {
-            x.layer(0, 1000, 100, 1, 100, 10);
-            x.part(layer, layer, 100);
-        }
-        t.due("sum(3)", 5000, x.sum(3));
-        t.due("sum(4)", 0, x.sum(4));
-        t.due("sum(5)", 50, x.sum(5));
-        t.due("sum(6)", 1000 - 5000 + 50, x.sum(6));
-        t.due("sum(7)", 5000, x.sum(7));
-        t.due("basis", 3950, x.basis());
+    /** The REINSURER 1 bears so many units, no other one bears any. */
+    private static String bearing(int units) {
+        return "layer(0, 99999, 100, 0, 0, 0); loss(0, 0, " + units + "); choose(0, 0, 0); part(0, 1, 100);";
     }
 
-    static void sumRefuses(Suite t) {
-        Stormbond x = new Stormbond();
-        for (int what : new int[] {-1, 8, Integer.MIN_VALUE, Integer.MAX_VALUE}) {
-            t.refusesArgument(x, "sum(" + what + ")", () -> x.sum(what));
-        }
+    private static void addSpiral(Suite s) {
+        s.run("promise 20: `what`: 0 what it bears directly, 1 what it has at the end of the SPIRAL, 2 its NET", bearing(1000) + """
+            retro(1, 2, 300, 500); retro(2, 3, 100, 999999); retro(3, 1, 0, 50)
+            reinsurer(1, 0) -> 1000; reinsurer(2, 0) -> 0; reinsurer(3, 0) -> 0
+            reinsurer(1, 1) -> 1050; reinsurer(2, 1) -> 500; reinsurer(3, 1) -> 400
+            reinsurer(1, 2) -> 550; reinsurer(2, 2) -> 100; reinsurer(3, 2) -> 350
+            retro(0, 2, 0, 999999); retro(4, 2, 0, 999999); reinsurer(2, 1) -> 500
+            """);
+        s.run("Terms: it passes on what it has above the FLOOR of its RETRO, at most its DEPTH", bearing(100) + """
+            retro(1, 2, 101, 50); reinsurer(2, 1) -> 0; reinsurer(1, 2) -> 100; retro(1, 2, 100, 50); reinsurer(2, 1) -> 0
+            retro(1, 2, 99, 50); reinsurer(2, 1) -> 1; reinsurer(1, 2) -> 99; retro(1, 2, 51, 50); reinsurer(2, 1) -> 49
+            retro(1, 2, 50, 50); reinsurer(2, 1) -> 50; retro(1, 2, 49, 50); reinsurer(2, 1) -> 50; reinsurer(1, 2) -> 50
+            retro(1, 2, 0, 1); reinsurer(2, 1) -> 1; retro(1, 2, 0, 999999); reinsurer(2, 1) -> 100; reinsurer(1, 2) -> 0
+            retro(1, 2, 999999, 999999); reinsurer(2, 1) -> 0; reinsurer(1, 1) -> 100
+            """);
+        s.run("Terms: what is passed on to it and what it bears directly, together, of several that pass on", bearing(900) + """
+            part(0, 1, 40); part(0, 2, 30); part(0, 3, 20); part(0, 4, 10); retro(1, 4, 60, 200); retro(2, 4, 0, 100)
+            retro(3, 4, 179, 5); reinsurer(4, 0) -> 90; reinsurer(4, 1) -> 391; reinsurer(1, 2) -> 160
+            reinsurer(2, 2) -> 170; reinsurer(3, 2) -> 179; reinsurer(4, 2) -> 391; sum(7) -> 900
+            """);
+        s.run("Terms: all by what they had ahead of the round, whichever REINSURER it comes from", bearing(1000) + """
+            retro(1, 2, 0, 10); retro(2, 3, 0, 10); rounds() -> 3; retro(2, 3, 0, 0); retro(1, 0, 0, 10); retro(0, 5, 0, 10)
+            rounds() -> 3; reinsurer(5, 1) -> 10; reinsurer(0, 1) -> 10; reinsurer(0, 2) -> 0
+            """);
+        s.run("Terms: the SPIRAL ends behind the 40th round; its NET is less what it would pass on in one more", bearing(1000) + """
+            retro(1, 2, 0, 999999); retro(2, 1, 0, 999999); rounds() -> 40; reinsurer(1, 1) -> 21000
+            reinsurer(2, 1) -> 20000; reinsurer(1, 2) -> 0; reinsurer(2, 2) -> 0; retro(2, 1, 0, 5000)
+            reinsurer(1, 1) -> 6000; reinsurer(2, 1) -> 6000; reinsurer(2, 2) -> 1000; reinsurer(1, 0) -> 1000; sum(7) -> 1000
+            """);
+        s.run("Terms: what the insurer keeps is by what is borne directly, not by the SPIRAL", bearing(1000) + """
+            sum(6) -> 0; sum(7) -> 1000; retro(1, 2, 0, 999999); retro(2, 1, 0, 999999); sum(6) -> 0; sum(7) -> 1000
+            sum(4) -> 0
+            """);
     }
 
-    static void bears(Suite t) {
-        Stormbond x = new Stormbond();
-        x.layer(0, 99, 100, 1, 0, 0);
-        x.layer(0, 99, 100, 1, 0, 0);
-        x.loss(0, 0, 99);
-        x.loss(0, 1, 99);
-        x.choose(0, 0, 0);
-        x.choose(0, 1, 1);
-        x.part(0, 1, 50);
-        x.part(1, 1, 50);
-        t.due("four times 49", 196, x.reinsurer(1, 0));
-        t.due("the rest is kept", 200, x.sum(4));
-        x.quota(50);
-        t.due("QUOTA is borne by 0", 98, x.reinsurer(0, 0));
-        t.due("four times 25", 100, x.reinsurer(1, 0));
-        x.part(0, 0, 10);
-        t.due("and PARTS of it", 98 + 10, x.reinsurer(0, 0));
-    }
-
-    static void bearsTakenBack(Suite t) {
-        Stormbond x = new Stormbond();
-        x.layer(0, 100, 100, 3, 10, 100);
-        x.part(0, 4, 50);
-        x.loss(0, 0, 60);
-        x.loss(0, 1, 80);
-        x.choose(0, 0, 0);
-        x.choose(0, 1, 1);
-        t.due("of both", 70, x.reinsurer(4, 0));
-        t.due("sum(5)", 14, x.sum(5));
-        x.unchoose();
-        t.due("of the first", 30, x.reinsurer(4, 0));
-        t.due("sum(3)", 60, x.sum(3));
-        t.due("sum(4)", 30, x.sum(4));
-        t.due("sum(5)", 6, x.sum(5));
-        t.due("sum(7)", 30, x.sum(7));
-    }
-
-    static void bearsMost(Suite t) {
-        Stormbond x = new Stormbond();
-        for (int layer = 0; layer < 5; layer++) {
-            x.layer(0, 10, 100, 3, 0, 0);
-            x.part(layer, layer + 1, 100);
-        }
-        for (int o = 0; o < 8; o++) {
-            x.loss(0, o, o + 1);
-            x.choose(0, o, o);
-        }
-        for (int layer = 0; layer < 5; layer++) {
-            t.due("borne", 36, x.reinsurer(layer + 1, 0));
-            t.due("left", 4, x.hit(layer, 7, 4));
-        }
-        t.due("sum(3)", 180, x.sum(3));
-    }
-
-    static Stormbond bearing(int direct) {
-        Stormbond x = new Stormbond();
-        x.layer(0, 99999, 100, 0, 0, 0);
-        x.loss(0, 0, direct);
-        x.choose(0, 0, 0);
-        x.part(0, 1, 100);
-        return x;
-    }
-
-    static void spiral(Suite t) {
-        Stormbond x = bearing(1000);
-        x.retro(1, 2, 300, 500);
-        x.retro(2, 3, 100, 999999);
-        x.retro(3, 1, 0, 50);
-        // 1: 1050 of which 500 go on to 2, of which 400 go on to 3, of which 50 come back.
-        t.due("1 has", 1050, x.reinsurer(1, 1));
-        t.due("2 has", 500, x.reinsurer(2, 1));
-        t.due("3 has", 400, x.reinsurer(3, 1));
-        t.due("1 NET", 550, x.reinsurer(1, 2));
-        t.due("2 NET", 100, x.reinsurer(2, 2));
-        t.due("3 NET", 350, x.reinsurer(3, 2));
-        t.due("1 directly", 1000, x.reinsurer(1, 0));
-        t.due("2 directly", 0, x.reinsurer(2, 0));
-        x.retro(0, 2, 0, 999999);
-        x.retro(4, 2, 0, 999999);
-        t.due("2 has still", 500, x.reinsurer(2, 1));
-    }
-
-    static void endlessSpiral(Suite t) {
-        Stormbond x = bearing(1000);
-        x.retro(1, 2, 0, 999999);
-        x.retro(2, 1, 0, 999999);
-        // Each second round brings 1000 more: 40 rounds, 20 times.
-        t.due("rounds", 40, x.rounds());
-        t.due("1 has", 21000, x.reinsurer(1, 1));
-        t.due("2 has", 20000, x.reinsurer(2, 1));
-        t.due("1 NET", 0, x.reinsurer(1, 2));
-        x.retro(2, 1, 0, 5000);
-        t.due("2 has", 6000, x.reinsurer(2, 1));
-        t.due("2 NET", 1000, x.reinsurer(2, 2));
-    }
-
-    static void reinsurerRefuses(Suite t) {
-        Stormbond x = new Stormbond();
-        t.refusesIndex(x, "reinsurer(6, 0)", () -> x.reinsurer(6, 0));
-        t.refusesIndex(x, "reinsurer(-1, 3)", () -> x.reinsurer(-1, 3));
-        t.refusesArgument(x, "reinsurer(5, 3)", () -> x.reinsurer(5, 3));
-        t.refusesArgument(x, "reinsurer(0, -1)", () -> x.reinsurer(0, -1));
-    }
-
-    static void rounds(Suite t) {
-        Stormbond x = bearing(1000);
-        t.due("nothing is passed on", 1, x.rounds());
-        x.retro(1, 2, 1000, 5);
-        t.due("at the FLOOR", 1, x.rounds());
-        x.retro(1, 2, 999, 5);
-        t.due("one goes on", 2, x.rounds());
-        x.retro(2, 3, 0, 5);
-        t.due("and on", 3, x.rounds());
-        x.retro(3, 4, 0, 5);
-        x.retro(4, 5, 0, 5);
-        x.retro(5, 0, 0, 5);
-        t.due("through all", 6, x.rounds());
-        Stormbond y = bearing(18);
-        y.retro(1, 2, 0, 999999);
-        y.retro(2, 1, 0, 342);
-        t.due("a change in the 39th, none in the 40th", 40, y.rounds());
-        t.due("it came to rest", 342 + 18, y.reinsurer(1, 1));
-        t.due("it came to rest", 360, y.reinsurer(2, 1));
-        y.retro(2, 1, 0, 341);
-        t.due("as it does with less", 40, y.rounds());
-        y.retro(2, 1, 0, 324);
-        t.due("two rounds less", 38, y.rounds());
+    private static void addRounds(Suite s) {
+        s.run("promise 21: how many rounds, that which changes nothing with them: 1 without a RETRO", "rounds() -> 1;"
+            + bearing(1000) + "rounds() -> 1; retro(2, 1, 0, 999999); rounds() -> 1; reinsurer(1, 1) -> 1000");
+        s.run("promise 21: 1 at the FLOOR, 2 if one unit is passed on, one more for each that passes it on", bearing(1000) + """
+            retro(1, 2, 1000, 5); rounds() -> 1; retro(1, 2, 999, 5); rounds() -> 2; retro(2, 3, 0, 5); rounds() -> 3
+            retro(3, 4, 0, 5); rounds() -> 4; retro(4, 5, 0, 5); rounds() -> 5; retro(5, 0, 0, 5); rounds() -> 6
+            reinsurer(0, 1) -> 1; reinsurer(5, 2) -> 0; retro(0, 1, 0, 5); rounds() -> 31; reinsurer(1, 1) -> 1005
+            """);
+        s.run("promise 21: returns 1 to 40: the last change in the 37th, the 39th and the 40th round", bearing(18) + """
+            retro(1, 2, 0, 999999); retro(2, 1, 0, 324); rounds() -> 38; retro(2, 1, 0, 341); rounds() -> 40
+            retro(2, 1, 0, 342); rounds() -> 40; reinsurer(1, 1) -> 360; reinsurer(2, 1) -> 360; reinsurer(2, 2) -> 18
+            retro(2, 1, 0, 343); rounds() -> 40; reinsurer(1, 1) -> 361; reinsurer(2, 1) -> 360; retro(2, 1, 0, 999999)
+            rounds() -> 40; reinsurer(1, 1) -> 378; reinsurer(2, 1) -> 360
+            """);
     }
 }

@@ -19,6 +19,8 @@ final class NoneTests {
                 + "; retro(4, 5, 0, 0) -> 0; retro(5, 0, 0, 0) -> 0");
         s.run("promise 1: no OCCURRENCES; promise 5: IllegalStateException if there is none",
             "occurrence(0, 0) -> index; unchoose() -> state; choose(0, 0, 0) -> 0; hit(0, 0, 0) -> index");
+        s.run("promise 18: there is no such LAYER or OCCURRENCE: neither, a LAYER alone, an OCCURRENCE alone, both",
+            "hit(0, 0, 0) -> index; layer(0, 9, 100, 0, 0, 0); hit(0, 0, 0) -> index; choose(0, 0, 0); hit(0, 0, 4) -> 9; unchoose(); hit(0, 0, 4) -> index");
         s.run("promise 1: no STATIONS, and no READINGS of them",
             "reading(0, 0, 0, 0) -> index; fails(0, 0) -> index; station(0) -> 0; reading(0, 0, 0, 0) -> 1");
         s.run("promise 1: no BONDS",

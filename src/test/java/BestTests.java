@@ -41,8 +41,10 @@ final class BestTests {
             layer(50, 100, 100, 0, 0, 0); loss(2, 0, 101); loss(2, 100, 99); both(2) -> 100; quota(50); both(2) -> 50
             quota(90); both(2) -> 0; creep(0, 9901); both(2) -> 100
             """);
-        both(s, "promises 22 and 23: the SHARE is rounded for each window and LAYER",
-            "layer(0, 100, 50, 0, 0, 0); layer(0, 100, 50, 0, 0, 0); loss(0, 0, 5); loss(0, 1, 5); both(0) -> 10; creep(0, 4); creep(1, 1); both(0) -> 4");
+        both(s, "promises 22 and 23: the SHARE is rounded for each window and LAYER", """
+            layer(0, 100, 50, 0, 0, 0); layer(0, 100, 50, 0, 0, 0); loss(0, 0, 5); loss(0, 1, 5); both(0) -> 10
+            creep(0, 4); creep(1, 1); both(0) -> 4
+            """);
         s.run("promise 22: of 40 LOSSES of the most units", Worlds.times(40, "loss(1, #0, 99999)")
             + Worlds.times(5, "layer(0, 999999, 100, 0, 0, 0)") + "best(1) -> 19999800; bestAnew(1) -> state; best(0) -> 0");
     }
@@ -55,8 +57,10 @@ final class BestTests {
                     + "; both(P) -> 50; creep(0, 0); both(P) -> 50; creep(0, 100); creep(1, 0); both(P) -> 50; creep(2, 0); both(P) -> 0")
                     .replace("P", "" + peril).replace("B", "" + (1000 + clause)).replace("L", "" + (999 + clause)));
         }
-        both(s, "promises 22 and 23: LOSSES at the HOURS 0 and 2199",
-            "layer(0, 10, 100, 0, 0, 0); loss(0, 0, 10); loss(0, 2199, 10); loss(2, 2199, 9); both(0) -> 20; both(2) -> 9");
+        both(s, "promises 22 and 23: LOSSES at the HOURS 0 and 2199", """
+            layer(0, 10, 100, 0, 0, 0); loss(0, 0, 10); loss(0, 2199, 10); loss(2, 2199, 9); both(0) -> 20
+            both(2) -> 9
+            """);
         both(s, "promises 22 and 23: LOSSES that are told from the last HOUR to the first one, and twice at one", """
             layer(10, 100, 100, 0, 0, 0); loss(0, 200, 5); loss(0, 140, 6); loss(0, 100, 7); loss(0, 140, 6); loss(0, 29, 4)
             both(0) -> 9; loss(0, 200, 1); both(0) -> 9; loss(0, 171, 1); both(0) -> 10

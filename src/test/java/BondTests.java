@@ -26,10 +26,14 @@ final class BondTests {
             bond(9, 0, 32768, 0, 9, 1, 1); bond(9, 0, 65535, 0, 9, 1, 1); bond(9, 0, 32769, 0, 9, 1, 1)
             ofBond(0, 0) -> 3; ofBond(1, 0) -> 4; ofBond(2, 0) -> 4; ofBond(3, 0) -> 4; ofBond(0, 5) -> -1; ofBond(1, 5) -> -1
             """);
-        s.run("promise 11: returns how many there are then, of all STATIONS",
-            "station(0); station(1); reading(0, 0, 0, 0) -> 1; reading(1, 2199, 2, 9) -> 2; reading(0, 0, 0, 10) -> argument; reading(0, 0, 0, 0) -> 3");
-        s.run("promise 11, `strength`: 0 to 9: both count as they are",
-            "station(0); bond(9, 1, 1, 0, 2199, 9, 100); reading(0, 2199, 1, 0); ofBond(0, 0) -> 0; reading(0, 0, 1, 9); ofBond(0, 0) -> 9; ofBond(0, 1) -> 9");
+        s.run("promise 11: returns how many there are then, of all STATIONS", """
+            station(0); station(1); reading(0, 0, 0, 0) -> 1; reading(1, 2199, 2, 9) -> 2
+            reading(0, 0, 0, 10) -> argument; reading(0, 0, 0, 0) -> 3
+            """);
+        s.run("promise 11, `strength`: 0 to 9: both count as they are", """
+            station(0); bond(9, 1, 1, 0, 2199, 9, 100); reading(0, 2199, 1, 0); ofBond(0, 0) -> 0
+            reading(0, 0, 1, 9); ofBond(0, 0) -> 9; ofBond(0, 1) -> 9
+            """);
     }
 
     private static void addFailing(Suite s) {
@@ -56,16 +60,21 @@ final class BondTests {
     }
 
     private static void addTelling(Suite s) {
-        s.run("promise 13: returns its number; a BOND of the least and of the greatest numbers",
-            "bond(1, 0, 1, 0, 0, 1, 1) -> 0; bond(999999, 2, 65535, 2199, 2199, 9, 100) -> 1; bond(0, 0, 1, 0, 0, 1, 1) -> argument; bond(1, 0, 1, 0, 0, 1, 1) -> 2");
+        s.run("promise 13: returns its number; a BOND of the least and of the greatest numbers", """
+            bond(1, 0, 1, 0, 0, 1, 1) -> 0; bond(999999, 2, 65535, 2199, 2199, 9, 100) -> 1
+            bond(0, 0, 1, 0, 0, 1, 1) -> argument; bond(1, 0, 1, 0, 0, 1, 1) -> 2
+            """);
         s.run("promise 13: the last HOUR has passed: not in it, but behind it", """
             pass(10); bond(1, 0, 1, 0, 9, 1, 1) -> state; bond(1, 0, 1, 0, 0, 1, 1) -> state; bond(1, 0, 1, 0, 10, 1, 1) -> 0
             bond(1, 0, 1, 10, 10, 1, 1) -> 1; ofBond(0, 2) -> 1; pass(1); bond(1, 0, 1, 0, 10, 1, 1) -> state
             bond(1, 0, 1, 0, 11, 1, 1) -> 2; ofBond(0, 2) -> 0
             """);
         s.run("promise 13, `last`: the last one, not below the first one",
-            "bond(1, 0, 1, 6, 5, 1, 1) -> argument; bond(1, 0, 1, 2199, 0, 1, 1) -> argument; bond(1, 0, 1, MAX, MIN, 1, 1) -> argument"
-                + "; bond(1, 0, 1, MIN, MAX, 1, 1) -> argument; bond(1, 0, 1, 5, 5, 1, 1) -> 0; bond(1, 0, 1, 0, 2199, 1, 1) -> 1");
+            """
+            bond(1, 0, 1, 6, 5, 1, 1) -> argument; bond(1, 0, 1, 2199, 0, 1, 1) -> argument
+            bond(1, 0, 1, MAX, MIN, 1, 1) -> argument; bond(1, 0, 1, MIN, MAX, 1, 1) -> argument
+            bond(1, 0, 1, 5, 5, 1, 1) -> 0; bond(1, 0, 1, 0, 2199, 1, 1) -> 1
+            """);
         s.run("promise 13, `box`: 1 to 65535: the bit k for the CELL k, no other bits", """
             bond(1, 0, 65536, 0, 9, 1, 1) -> argument; bond(1, 0, 65537, 0, 9, 1, 1) -> argument
             bond(1, 0, -65535, 0, 9, 1, 1) -> argument; bond(1, 0, 131071, 0, 9, 1, 1) -> argument
@@ -89,8 +98,10 @@ final class BondTests {
             bond(9, 0, 1, 0, 50, 9, 10); bond(9, 0, 1, 0, 50, 9, 10); pass(50); extend(0, 1) -> 51; pass(1)
             ofBond(0, 2) -> 1; ofBond(1, 2) -> 0; extend(1, 1) -> state; extend(1, 500) -> state; extend(0, 1) -> state
             """);
-        s.run("promise 14: there is no such BOND behind the last one",
-            "extend(0, 1) -> index; bond(9, 0, 1, 0, 50, 9, 10); extend(1, 1) -> index; extend(-1, 1) -> index; extend(0, 1) -> 51");
+        s.run("promise 14: there is no such BOND behind the last one", """
+            extend(0, 1) -> index; bond(9, 0, 1, 0, 50, 9, 10); extend(1, 1) -> index; extend(-1, 1) -> index
+            extend(0, 1) -> 51
+            """);
     }
 
     private static void addHours(Suite s) {
@@ -128,8 +139,10 @@ final class BondTests {
             reading(2, 5, 0, 9); ofBond(0, 0) -> 0; ofBond(0, 5) -> -1; reading(0, 5, 0, 3); reading(1, 5, 0, 4)
             ofBond(0, 0) -> 4; ofBond(1, 0) -> 9
             """);
-        s.run("Terms: READINGS at HOURS to come count; the term of a BOND that begins in what has passed",
-            "station(0); reading(0, 2, 0, 6); pass(5); bond(9, 0, 1, 0, 9, 1, 1); ofBond(0, 0) -> 6; reading(0, 9, 0, 7); ofBond(0, 0) -> 7");
+        s.run("Terms: READINGS at HOURS to come count; the term of a BOND that begins in what has passed", """
+            station(0); reading(0, 2, 0, 6); pass(5); bond(9, 0, 1, 0, 9, 1, 1); ofBond(0, 0) -> 6
+            reading(0, 9, 0, 7); ofBond(0, 0) -> 7
+            """);
         s.run("Terms: READINGS are kept, at most 60: the last one counts", "station(0); bond(9, 0, 1, 0, 2199, 1, 10);"
             + Worlds.times(59, "reading(0, #, 0, 1)") + "ofBond(0, 0) -> 1; reading(0, 2199, 0, 9) -> 60; ofBond(0, 0) -> 9; fails(0, 2199) -> 59");
     }

@@ -4,8 +4,10 @@ final class CoverTests {
     }
 
     static void addTo(Suite s) {
-        s.run("promise 6: returns the one before; a QUOTA is 0 at first",
-            "quota(90) -> 0; quota(33) -> 90; quota(0) -> 33; quota(0) -> 0; quota(1) -> 0; quota(91) -> argument; quota(2) -> 1");
+        s.run("promise 6: returns the one before; a QUOTA is 0 at first", """
+            quota(90) -> 0; quota(33) -> 90; quota(0) -> 33; quota(0) -> 0; quota(1) -> 0; quota(91) -> argument
+            quota(2) -> 1
+            """);
         s.run("Terms: QUOTA times its GROUND, divided by 100, rounded down; the rest is its NET", """
             loss(0, 0, 99); choose(0, 0, 0); quota(1); occurrence(0, 1) -> 0; occurrence(0, 2) -> 99; creep(0, 100)
             occurrence(0, 1) -> 1; occurrence(0, 2) -> 99; creep(0, 199); occurrence(0, 1) -> 1; occurrence(0, 2) -> 198
@@ -33,8 +35,10 @@ final class CoverTests {
             part(0, 0, 0) -> 5; part(0, 1, 0) -> 5; reinsurer(0, 0) -> 0; reinsurer(5, 0) -> 95
             reinsurer(3, 0) -> 100; reinsurer(1, 0) -> 0
             """);
-        s.run("promise 8: there is no such LAYER ahead of the first one, or behind the last one",
-            "part(0, 0, 0) -> index; layer(0, 1, 1, 0, 0, 0); part(0, 0, 0) -> 100; part(1, 0, 0) -> index; part(-1, 0, 0) -> index");
+        s.run("promise 8: there is no such LAYER ahead of the first one, or behind the last one", """
+            part(0, 0, 0) -> index; layer(0, 1, 1, 0, 0, 0); part(0, 0, 0) -> 100; part(1, 0, 0) -> index
+            part(-1, 0, 0) -> index
+            """);
         s.run("promise 9: returns the DEPTH of the one before, 0 if there was none", """
             retro(0, 1, 0, 5) -> 0; retro(0, 2, 999999, 999999) -> 5; retro(0, 1, 0, 0) -> 999999; retro(0, 1, 5, 0) -> 0
             retro(0, 5, 7, 1) -> 0; retro(0, 5, 7, 0) -> 1; retro(5, 0, 0, 3) -> 0; retro(5, 4, 0, 3) -> 3

@@ -83,8 +83,10 @@ final class FirstTests {
             """);
         s.runIn(Worlds.SOME, "promise 12, fails: no such STATION ahead of hour out of range",
             "fails(3, -1) -> index; fails(-1, 2200) -> index; fails(MIN, MIN) -> index");
-        s.runIn(Worlds.SOME, "promise 12, fails: hour out of range ahead of what was told of it before",
-            "fails(1, -1) -> argument; fails(1, 2200) -> argument; fails(1, 0) -> state; fails(1, 25) -> state; fails(1, 2199) -> state");
+        s.runIn(Worlds.SOME, "promise 12, fails: hour out of range ahead of what was told of it before", """
+            fails(1, -1) -> argument; fails(1, 2200) -> argument; fails(1, 0) -> state; fails(1, 25) -> state
+            fails(1, 2199) -> state
+            """);
     }
 
     private static void addBonds(Suite s) {
@@ -110,8 +112,10 @@ final class FirstTests {
             "extend(3, 0) -> index; extend(3, 501) -> index; extend(-1, MIN) -> index; extend(MAX, MAX) -> index");
         s.runIn(Worlds.SOME, "promise 14, extend: hours out of range ahead of what was extended",
             "extend(1, 0) -> argument; extend(1, 501) -> argument; extend(1, MIN) -> argument; extend(1, 1) -> state");
-        s.runIn(Worlds.SOME, "promise 14, extend: hours out of range ahead of what is not in TRUST any more",
-            "pass(21); extend(0, 0) -> argument; extend(0, 501) -> argument; extend(0, -1) -> argument; extend(0, 500) -> state");
+        s.runIn(Worlds.SOME, "promise 14, extend: hours out of range ahead of what is not in TRUST any more", """
+            pass(21); extend(0, 0) -> argument; extend(0, 501) -> argument; extend(0, -1) -> argument
+            extend(0, 500) -> state
+            """);
         s.runIn(Worlds.SOME, "promise 15, pass: hours out of range ahead of what would be above 2199", """
             pass(500); pass(500); pass(500); pass(500); pass(159) -> 2199; pass(0) -> argument; pass(501) -> argument
             pass(-1) -> argument; pass(MAX) -> argument; pass(MIN) -> argument; pass(1) -> state; pass(500) -> state
@@ -128,14 +132,18 @@ final class FirstTests {
     }
 
     private static void addQuestions(Suite s) {
-        s.runIn(Worlds.SOME, "promise 17, occurrence: no such OCCURRENCE ahead of what out of range",
-            "occurrence(2, -1) -> index; occurrence(2, 6) -> index; occurrence(-1, 6) -> index; occurrence(MIN, MAX) -> index");
+        s.runIn(Worlds.SOME, "promise 17, occurrence: no such OCCURRENCE ahead of what out of range", """
+            occurrence(2, -1) -> index; occurrence(2, 6) -> index; occurrence(-1, 6) -> index
+            occurrence(MIN, MAX) -> index
+            """);
         s.runIn(Worlds.SOME, "promise 18, hit: no such LAYER or OCCURRENCE ahead of what out of range", """
             hit(2, 0, 5) -> index; hit(0, 2, 5) -> index; hit(-1, 0, -1) -> index; hit(0, -1, -1) -> index
             hit(2, 2, 5) -> index; hit(MAX, MIN, MAX) -> index; hit(1, 1, 5) -> argument
             """);
-        s.runIn(Worlds.SOME, "promise 20, reinsurer: no such REINSURER ahead of what out of range",
-            "reinsurer(6, -1) -> index; reinsurer(6, 3) -> index; reinsurer(-1, 3) -> index; reinsurer(MAX, MIN) -> index");
+        s.runIn(Worlds.SOME, "promise 20, reinsurer: no such REINSURER ahead of what out of range", """
+            reinsurer(6, -1) -> index; reinsurer(6, 3) -> index; reinsurer(-1, 3) -> index
+            reinsurer(MAX, MIN) -> index
+            """);
         s.runIn(Worlds.FULL, "promise 23, bestAnew: peril out of range, where those in range are at more than 7 HOURS",
             "bestAnew(-1) -> argument; bestAnew(3) -> argument; bestAnew(0) -> state; bestAnew(2) -> state");
         s.runIn(Worlds.SOME, "promise 24, ofBond: no such BOND ahead of what out of range",
@@ -149,7 +157,9 @@ final class FirstTests {
             """);
         s.runIn(Worlds.SOME, "promise 27, tail: no such LAYER ahead of a MODEL without SCENARIOS, and of all three",
             "tail(2, 1, 0) -> index; tail(-1, 1, 99) -> index; tail(2, 1, 100) -> index; tail(-1, 1, -1) -> index");
-        s.runIn(Worlds.SOME, "promise 27, tail: percent out of range ahead of a MODEL without SCENARIOS",
-            "tail(0, 1, 100) -> argument; tail(0, 1, -1) -> argument; tail(1, 1, MAX) -> argument; tail(0, 1, 99) -> state");
+        s.runIn(Worlds.SOME, "promise 27, tail: percent out of range ahead of a MODEL without SCENARIOS", """
+            tail(0, 1, 100) -> argument; tail(0, 1, -1) -> argument; tail(1, 1, MAX) -> argument
+            tail(0, 1, 99) -> state
+            """);
     }
 }

@@ -93,29 +93,37 @@ final class LossTests {
                     .replace("A", "" + (2199 - clause)).replace("B", "" + (2200 - clause))
                     .replace("C", "" + (500 + clause)).replace("D", "" + (1000 + clause)));
         }
-        s.run("Terms: the clause of 72 HOURS is that of WIND alone",
-            "choose(0, 0, 72) -> argument; choose(1, 0, 72) -> 0; choose(2, 0, 72) -> 1; choose(0, 0, 167) -> argument");
+        s.run("Terms: the clause of 72 HOURS is that of WIND alone", """
+            choose(0, 0, 72) -> argument; choose(1, 0, 72) -> 0; choose(2, 0, 72) -> 1
+            choose(0, 0, 167) -> argument
+            """);
         s.run("Terms: the HOURS from a first to a last one, both with it", """
             loss(1, 99, 1); loss(1, 100, 10); loss(1, 150, 100); loss(1, 200, 1000); loss(1, 201, 10000)
             choose(1, 100, 200); occurrence(0, 0) -> 1110; sum(1) -> 10001; unchoose(); choose(1, 101, 199)
             occurrence(0, 0) -> 100; unchoose(); choose(1, 99, 201); occurrence(0, 0) -> 11111; sum(1) -> 0
             """);
-        s.run("Terms: a window of one HOUR",
-            "loss(0, 4, 1); loss(0, 5, 10); loss(0, 6, 100); choose(0, 5, 5) -> 0; occurrence(0, 0) -> 10; sum(1) -> 101");
+        s.run("Terms: a window of one HOUR", """
+            loss(0, 4, 1); loss(0, 5, 10); loss(0, 6, 100); choose(0, 5, 5) -> 0; occurrence(0, 0) -> 10
+            sum(1) -> 101
+            """);
         s.run("Terms: its GROUND is the units of all LOSSES of its PERIL, of no other one", """
             loss(0, 5, 1); loss(1, 5, 10); loss(2, 5, 100); loss(1, 5, 30); choose(1, 5, 5); occurrence(0, 0) -> 40
             choose(2, 5, 5); occurrence(1, 0) -> 100; sum(1) -> 1; choose(0, 5, 5); occurrence(2, 0) -> 1; sum(1) -> 0
             """);
-        s.run("promise 4, `last`: the last HOUR, not below the first one",
-            "choose(0, 5, 4) -> argument; choose(0, 2199, 0) -> argument; choose(0, 0, -1) -> argument; choose(0, 5, 5) -> 0");
+        s.run("promise 4, `last`: the last HOUR, not below the first one", """
+            choose(0, 5, 4) -> argument; choose(0, 2199, 0) -> argument; choose(0, 0, -1) -> argument
+            choose(0, 5, 5) -> 0
+            """);
         s.run("promise 4: first or last is out of range, also where the least and the greatest int are far apart", """
             choose(0, MIN, MAX) -> argument; choose(0, MAX, MIN) -> argument; choose(0, MIN, 0) -> argument
             choose(0, 0, MIN) -> argument; choose(0, MAX, MAX) -> argument; choose(0, MIN, MIN) -> argument
             choose(0, 2199, MAX) -> argument; choose(1, -1, -1) -> argument; choose(1, 2200, 2200) -> argument
             choose(1, -1, 0) -> argument; choose(1, 2199, 2200) -> argument; choose(1, 2199, 2199) -> 0
             """);
-        s.run("promise 4: returns its number; OCCURRENCES are numbered from 0, by no other order",
-            "choose(2, 500, 500) -> 0; choose(0, 0, 0) -> 1; choose(1, 300, 300) -> 2; occurrence(1, 5) -> 0; occurrence(0, 5) -> 2");
+        s.run("promise 4: returns its number; OCCURRENCES are numbered from 0, by no other order", """
+            choose(2, 500, 500) -> 0; choose(0, 0, 0) -> 1; choose(1, 300, 300) -> 2; occurrence(1, 5) -> 0
+            occurrence(0, 5) -> 2
+            """);
     }
 
     private static void addInCommon(Suite s) {
@@ -124,14 +132,22 @@ final class LossTests {
             choose(0, 110, 120) -> state; choose(0, 105, 106) -> state; choose(0, 95, 115) -> state
             choose(0, 100, 100) -> state; choose(0, 110, 110) -> state; choose(0, 50, 101) -> state
             """);
-        s.run("promise 4: no HOUR in common right ahead of it and right behind it",
-            "choose(0, 100, 110) -> 0; choose(0, 111, 120) -> 1; choose(0, 90, 99) -> 2; choose(0, 121, 121) -> 3; choose(0, 89, 90) -> state");
-        s.run("promise 4: windows of other PERILS may have HOURS in common",
-            "choose(0, 100, 110) -> 0; choose(1, 100, 110) -> 1; choose(2, 110, 120) -> 2; choose(2, 120, 130) -> state");
-        s.run("promise 4: with another one of the PERIL, not the last one that was chosen alone",
-            "choose(0, 100, 110) -> 0; choose(0, 10, 20) -> 1; choose(1, 30, 40) -> 2; choose(0, 110, 110) -> state; choose(0, 20, 21) -> state");
-        s.run("promise 4: a gap of one HOUR between two windows",
-            "choose(0, 10, 20) -> 0; choose(0, 22, 30) -> 1; choose(0, 21, 22) -> state; choose(0, 20, 21) -> state; choose(0, 21, 21) -> 2");
+        s.run("promise 4: no HOUR in common right ahead of it and right behind it", """
+            choose(0, 100, 110) -> 0; choose(0, 111, 120) -> 1; choose(0, 90, 99) -> 2; choose(0, 121, 121) -> 3
+            choose(0, 89, 90) -> state
+            """);
+        s.run("promise 4: windows of other PERILS may have HOURS in common", """
+            choose(0, 100, 110) -> 0; choose(1, 100, 110) -> 1; choose(2, 110, 120) -> 2
+            choose(2, 120, 130) -> state
+            """);
+        s.run("promise 4: with another one of the PERIL, not the last one that was chosen alone", """
+            choose(0, 100, 110) -> 0; choose(0, 10, 20) -> 1; choose(1, 30, 40) -> 2
+            choose(0, 110, 110) -> state; choose(0, 20, 21) -> state
+            """);
+        s.run("promise 4: a gap of one HOUR between two windows", """
+            choose(0, 10, 20) -> 0; choose(0, 22, 30) -> 1; choose(0, 21, 22) -> state
+            choose(0, 20, 21) -> state; choose(0, 21, 21) -> 2
+            """);
     }
 
     private static void addTakenBack(Suite s) {

@@ -49,8 +49,10 @@ final class MostTests {
                 + Worlds.times(59, "reading(1, #, 0, 8)")
                 + "ofBond(0, 0) -> 0; reading(0, 2199, 0, 9) -> 60; ofBond(0, 0) -> 9"
                 + "; reading(0, 0, 0, 0) -> state; reading(1, 2199, 2, 9) -> state; ofBond(0, 0) -> 9");
-        s.run("promise 11: returns how many there are then, whether they count or not",
-            "station(0); fails(0, 0); reading(0, 0, 0, 0) -> 1; reading(0, 0, 0, 0) -> 2; station(1); reading(1, 5, 1, 3) -> 3");
+        s.run("promise 11: returns how many there are then, whether they count or not", """
+            station(0); fails(0, 0); reading(0, 0, 0, 0) -> 1; reading(0, 0, 0, 0) -> 2; station(1)
+            reading(1, 5, 1, 3) -> 3
+            """);
         s.run("BONDS are numbered from 0, at most 5; promise 13: IllegalStateException if there are 5",
             Worlds.times(4, "bond(10, 0, 1, 0, #, 1, 100) -> #")
                 + "ofBond(4, 0) -> index; extend(4, 1) -> index; bond(999999, 0, 2, 0, 2199, 1, 100) -> 4; ofBond(4, 2) -> 1"
@@ -76,7 +78,8 @@ final class MostTests {
 
     /** The 512th call of an object tells a LOSS, or asks for what was told ahead of it. */
     private static void calls(Suite t) {
-        new Run(t).go("loss(0, 7, 5);" + Worlds.times(255, "creep(0, #1)") + Worlds.times(255, "quota(0) -> 0") + "creep(0, 8) -> 2541");
+        new Run(t).go("loss(0, 7, 5);" + Worlds.times(255, "creep(0, #1)")
+            + Worlds.times(255, "quota(0) -> 0") + "creep(0, 8) -> 2541");
         new Run(t).go("loss(0, 7, 5);" + Worlds.times(510, "creep(0, 1#)") + "sum(0) -> 1509");
         new Run(t).go(Worlds.times(511, "quota(90)") + "quota(1) -> 90");
     }

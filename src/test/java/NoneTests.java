@@ -19,8 +19,10 @@ final class NoneTests {
                 + "; retro(4, 5, 0, 0) -> 0; retro(5, 0, 0, 0) -> 0");
         s.run("promise 1: no OCCURRENCES; promise 5: IllegalStateException if there is none",
             "occurrence(0, 0) -> index; unchoose() -> state; choose(0, 0, 0) -> 0; hit(0, 0, 0) -> index");
-        s.run("promise 18: there is no such LAYER or OCCURRENCE: neither, a LAYER alone, an OCCURRENCE alone, both",
-            "hit(0, 0, 0) -> index; layer(0, 9, 100, 0, 0, 0); hit(0, 0, 0) -> index; choose(0, 0, 0); hit(0, 0, 4) -> 9; unchoose(); hit(0, 0, 4) -> index");
+        s.run("promise 18: there is no such LAYER or OCCURRENCE: neither, a LAYER alone, an OCCURRENCE alone, both", """
+            hit(0, 0, 0) -> index; layer(0, 9, 100, 0, 0, 0); hit(0, 0, 0) -> index; choose(0, 0, 0)
+            hit(0, 0, 4) -> 9; unchoose(); hit(0, 0, 4) -> index
+            """);
         s.run("promise 1: no STATIONS, and no READINGS of them",
             "reading(0, 0, 0, 0) -> index; fails(0, 0) -> index; station(0) -> 0; reading(0, 0, 0, 0) -> 1");
         s.run("promise 1: no BONDS",
@@ -60,8 +62,10 @@ final class NoneTests {
             bond(1000, 0, 1, 0, 9, 1, 100); ofBond(0, 0) -> 0; ofBond(0, 1) -> 0; ofBond(0, 5) -> -1; station(0)
             ofBond(0, 0) -> 0; ofBond(0, 1) -> 0; ofBond(0, 5) -> -1; pass(10); ofBond(0, 3) -> 0; ofBond(0, 4) -> 1000
             """);
-        s.run("INDEX: a READING of strength 0 is below each trigger",
-            "station(0); bond(1000, 0, 1, 0, 9, 1, 100); reading(0, 5, 0, 0) -> 1; ofBond(0, 0) -> 0; ofBond(0, 1) -> 0");
+        s.run("INDEX: a READING of strength 0 is below each trigger", """
+            station(0); bond(1000, 0, 1, 0, 9, 1, 100); reading(0, 5, 0, 0) -> 1; ofBond(0, 0) -> 0
+            ofBond(0, 1) -> 0
+            """);
         s.run("promise 12: returns how many of its READINGS count still, of a STATION without any, or with those of others",
             "station(0); station(1); reading(1, 5, 0, 3); fails(0, 2199) -> 0; fails(1, 5) -> 0");
         s.run("promise 28: of MODELS only those with SCENARIOS come in, though one pays nothing", """
@@ -86,8 +90,10 @@ final class NoneTests {
             reading(1, 0, 0, 9); fails(0, 5) -> 1; ofBond(0, 0) -> 9; ofBond(0, 5) -> 1; fails(1, 9) -> 1
             ofBond(0, 0) -> 6; ofBond(0, 5) -> -1
             """);
-        s.run("the TRUST has ended: it can't be extended any more",
-            "bond(1000, 0, 1, 0, 9, 1, 100); pass(10); ofBond(0, 2) -> 0; extend(0, 500) -> state; ofBond(0, 4) -> 1000");
+        s.run("the TRUST has ended: it can't be extended any more", """
+            bond(1000, 0, 1, 0, 9, 1, 100); pass(10); ofBond(0, 2) -> 0; extend(0, 500) -> state
+            ofBond(0, 4) -> 1000
+            """);
         s.run("a RETRO of DEPTH 0 is none: nothing is left of it", """
             quota(50); loss(0, 0, 100); choose(0, 0, 0); retro(0, 1, 0, 9) -> 0; rounds() -> 2; reinsurer(1, 1) -> 9
             retro(0, 1, 0, 0) -> 9; rounds() -> 1; reinsurer(1, 1) -> 0; reinsurer(0, 2) -> 50; retro(0, 1, 0, 0) -> 0

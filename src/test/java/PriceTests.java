@@ -16,8 +16,10 @@ final class PriceTests {
     }
 
     private static void addScenarios(Suite s) {
-        s.run("promise 16: returns how many the MODEL has then, each for itself",
-            "scenario(0, 1, 1) -> 1; scenario(2, 1, 1) -> 1; scenario(0, 1, 1) -> 2; scenario(1, 1, 1) -> 1; scenario(2, 0, 1) -> argument; scenario(2, 1, 1) -> 2");
+        s.run("promise 16: returns how many the MODEL has then, each for itself", """
+            scenario(0, 1, 1) -> 1; scenario(2, 1, 1) -> 1; scenario(0, 1, 1) -> 2; scenario(1, 1, 1) -> 1
+            scenario(2, 0, 1) -> argument; scenario(2, 1, 1) -> 2
+            """);
         s.run("promise 16, `weight`: 1 to 99, `units`: 0 to 999999: they count as they are", """
             layer(0, 999999, 100, 0, 0, 0); scenario(0, 1, 0); scenario(0, 99, 999999); price(0, 0) -> 989999010
             tail(0, 0, 98) -> 999999; tail(0, 0, 99) -> 0; scenario(1, 99, 0); scenario(1, 1, 999999); price(0, 1) -> 9999990
@@ -45,8 +47,10 @@ final class PriceTests {
             "layer(0, 999999, 100, 0, 0, 0);" + Worlds.times(12, "scenario(2, 99, 999999)")
                 + "price(0, 2) -> 999999000; tail(0, 2, 0) -> 999999; tail(0, 2, 99) -> 999999; dearest(0, false) -> 2; dearest(0, true) -> "
                 + bits(999999.0));
-        s.run("promise 26: the MODEL has no SCENARIOS, though others have",
-            "layer(0, 10, 100, 0, 0, 0); scenario(1, 1, 10); price(0, 0) -> state; price(0, 2) -> state; price(0, 1) -> 10000");
+        s.run("promise 26: the MODEL has no SCENARIOS, though others have", """
+            layer(0, 10, 100, 0, 0, 0); scenario(1, 1, 10); price(0, 0) -> state; price(0, 2) -> state
+            price(0, 1) -> 10000
+            """);
         s.run("promises 26 to 28: there is no such LAYER behind the last one", """
             scenario(0, 1, 10); price(0, 0) -> index; tail(0, 0, 0) -> index; dearest(0, false) -> index
             dearest(0, true) -> index; layer(0, 10, 100, 0, 0, 0); price(0, 0) -> 10000; price(1, 0) -> index

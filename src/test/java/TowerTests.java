@@ -51,8 +51,10 @@ final class TowerTests {
             choose(2, 0, 0); hit(0, 1, 0) -> 60; hit(0, 1, 4) -> 40; hit(0, 0, 0) -> 40; hit(0, 0, 4) -> 0
             hit(0, 2, 4) -> 100; occurrence(0, 5) -> 2; occurrence(1, 5) -> 1; occurrence(2, 5) -> 0
             """);
-        s.run("Terms: a first HOUR earlier by one goes ahead of a lower PERIL",
-            "choose(2, 9, 9); choose(0, 10, 10); choose(1, 10, 20); occurrence(0, 5) -> 0; occurrence(1, 5) -> 1; occurrence(2, 5) -> 2");
+        s.run("Terms: a first HOUR earlier by one goes ahead of a lower PERIL", """
+            choose(2, 9, 9); choose(0, 10, 10); choose(1, 10, 20); occurrence(0, 5) -> 0; occurrence(1, 5) -> 1
+            occurrence(2, 5) -> 2
+            """);
         s.run("Terms: of 8 OCCURRENCES, told from the last to be settled to the first one", """
             choose(2, 400, 400); choose(1, 400, 400); choose(0, 400, 400); choose(2, 300, 300); choose(1, 300, 300)
             choose(0, 300, 300); choose(2, 0, 0); choose(1, 0, 0); occurrence(0, 5) -> 7; occurrence(1, 5) -> 6
@@ -153,8 +155,10 @@ final class TowerTests {
             layer(0, 10, 100, 3, 0, 150); layer(0, 10, 100, 3, 99999, 0); loss(0, 0, 10); choose(0, 0, 0); hit(0, 0, 2) -> 10
             hit(0, 0, 3) -> 0; hit(1, 0, 2) -> 10; hit(1, 0, 3) -> 0; occurrence(0, 4) -> 0; sum(5) -> 0
             """);
-        s.run("promise 7, `premium` 99999 and `rate` 150, of the least DEPTH",
-            "layer(0, 1, 1, 3, 99999, 150); loss(0, 0, 1); choose(0, 0, 0); hit(0, 0, 1) -> 0; hit(0, 0, 3) -> 149998; sum(6) -> 149999");
+        s.run("promise 7, `premium` 99999 and `rate` 150, of the least DEPTH", """
+            layer(0, 1, 1, 3, 99999, 150); loss(0, 0, 1); choose(0, 0, 0); hit(0, 0, 1) -> 0
+            hit(0, 0, 3) -> 149998; sum(6) -> 149999
+            """);
     }
 
     private static void addSums(Suite s) {
@@ -179,8 +183,10 @@ final class TowerTests {
             layer(0, 100, 100, 0, 0, 0); loss(0, 0, 100); choose(0, 0, 0); sum(4) -> 100; part(0, 0, 1); sum(4) -> 99
             part(0, 5, 98); sum(4) -> 1; part(0, 0, 2); sum(4) -> 0; quota(90); sum(4) -> 1; sum(3) -> 10; sum(7) -> 99
             """);
-        s.run("promise 19: all LOSSES are in OCCURRENCES, or none, at the edges of a window",
-            "loss(0, 5, 3); loss(0, 6, 4); choose(0, 4, 4); sum(1) -> 7; choose(0, 5, 5); sum(1) -> 4; choose(0, 6, 77); sum(1) -> 0; sum(0) -> 7");
+        s.run("promise 19: all LOSSES are in OCCURRENCES, or none, at the edges of a window", """
+            loss(0, 5, 3); loss(0, 6, 4); choose(0, 4, 4); sum(1) -> 7; choose(0, 5, 5); sum(1) -> 4
+            choose(0, 6, 77); sum(1) -> 0; sum(0) -> 7
+            """);
     }
 
     private static void addBearing(Suite s) {
@@ -194,8 +200,10 @@ final class TowerTests {
             reinsurer(2, 0) -> 98; sum(4) -> 1; creep(0, 100); reinsurer(1, 0) -> 1; reinsurer(2, 0) -> 99; sum(4) -> 0
             part(0, 1, 0); part(0, 2, 100); creep(0, 99); reinsurer(2, 0) -> 99; reinsurer(1, 0) -> 0
             """);
-        s.run("Terms: PART of what the LAYER pays, not of its HIT",
-            "layer(0, 100, 50, 0, 0, 0); loss(0, 0, 100); choose(0, 0, 0); part(0, 3, 50); reinsurer(3, 0) -> 25; sum(4) -> 25");
+        s.run("Terms: PART of what the LAYER pays, not of its HIT", """
+            layer(0, 100, 50, 0, 0, 0); loss(0, 0, 100); choose(0, 0, 0); part(0, 3, 50); reinsurer(3, 0) -> 25
+            sum(4) -> 25
+            """);
         s.run("Terms: the QUOTA of all OCCURRENCES is borne by the REINSURER 0, as well as its PARTS", """
             quota(10); loss(0, 0, 100); loss(0, 1, 205); loss(0, 2, 999); choose(0, 0, 0); choose(0, 1, 1)
             reinsurer(0, 0) -> 30; reinsurer(1, 0) -> 0; layer(0, 50, 100, 3, 0, 0); part(0, 0, 100); reinsurer(0, 0) -> 130
@@ -214,7 +222,8 @@ final class TowerTests {
             most.append("loss(0, " + i + ", " + (i + 1) + "); choose(0, " + i + ", " + i + ");");
         }
         s.run("promise 20: of 8 OCCURRENCES and 5 LAYERS, the last of each with them", most + Worlds.times(5, "hit(#, 7, 4) -> 4")
-            + "reinsurer(1, 0) -> 36; reinsurer(2, 0) -> 36; reinsurer(3, 0) -> 36; reinsurer(4, 0) -> 36; reinsurer(5, 0) -> 36; sum(3) -> 180");
+            + "reinsurer(1, 0) -> 36; reinsurer(2, 0) -> 36; reinsurer(3, 0) -> 36; reinsurer(4, 0) -> 36"
+            + "; reinsurer(5, 0) -> 36; reinsurer(0, 0) -> 0; sum(3) -> 180");
     }
 
     /** The REINSURER 1 bears so many units, no other one bears any. */

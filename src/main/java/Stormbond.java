@@ -637,7 +637,6 @@ public final class Stormbond {
         private final int[] grounds = new int[MOST_OCCURRENCES];
         private final int[] quotas = new int[MOST_OCCURRENCES];
         private final int[] places = new int[MOST_OCCURRENCES];
-        private final int[] order = new int[MOST_OCCURRENCES];
         private final int[] paid = new int[MOST_OCCURRENCES];
         private final int[] charged = new int[MOST_OCCURRENCES];
         private final int[] hits = new int[SLOTS];
@@ -647,6 +646,8 @@ public final class Stormbond {
         private final int[] lefts = new int[SLOTS];
         private int occurrences;
         private int layers;
+        private int left;
+        private int restorable;
 
         void settle(Losses losses, Windows windows, Tower tower) {
             occurrences = windows.count;
@@ -657,7 +658,6 @@ public final class Stormbond {
                 paid[i] = 0;
                 charged[i] = 0;
                 places[i] = windows.placeOf(i);
-                order[places[i]] = i;
             }
             for (int layer = 0; layer < layers; layer++) {
                 settleLayer(tower, layer);
@@ -665,21 +665,28 @@ public final class Stormbond {
         }
 
         private void settleLayer(Tower tower, int layer) {
-            int left = tower.capacity(layer);
-            int restorable = tower.restorable(layer);
+            left = tower.capacity(layer);
+            restorable = tower.restorable(layer);
             for (int place = 0; place < occurrences; place++) {
-                int occurrence = order[place];
-                int slot = slotOf(layer, occurrence);
-                hits[slot] = Math.min(tower.fullHit(layer, netOf(occurrence)), left);
-                pays[slot] = tower.payFor(layer, hits[slot]);
-                restored[slot] = Math.min(hits[slot], restorable);
-                charges[slot] = tower.chargeFor(layer, restored[slot]);
-                left -= hits[slot];
-                restorable -= restored[slot];
-                lefts[slot] = left;
-                paid[occurrence] += pays[slot];
-                charged[occurrence] += charges[slot];
+                for (int i = 0; i < occurrences; i++) {
+                    if (places[i] == place) {
+                        settleOne(tower, layer, i);
+                    }
+                }
             }
+        }
+
+        private void settleOne(Tower tower, int layer, int occurrence) {
+            int slot = slotOf(layer, occurrence);
+            hits[slot] = Math.min(tower.fullHit(layer, netOf(occurrence)), left);
+            pays[slot] = tower.payFor(layer, hits[slot]);
+            restored[slot] = Math.min(hits[slot], restorable);
+            charges[slot] = tower.chargeFor(layer, restored[slot]);
+            left -= hits[slot];
+            restorable -= restored[slot];
+            lefts[slot] = left;
+            paid[occurrence] += pays[slot];
+            charged[occurrence] += charges[slot];
         }
 
         private static int slotOf(int layer, int occurrence) {
@@ -811,16 +818,23 @@ public final class Stormbond {
         }
 
         private boolean spinOnce() {
-            System.arraycopy(borne, 0, next, 0, REINSURERS);
-            for (int i = 0; i < REINSURERS; i++) {
-                next[takers[i]] += passedOnBy(i);
-            }
             boolean isChanged = false;
             for (int i = 0; i < REINSURERS; i++) {
+                next[i] = borne[i] + passedOnTo(i);
                 isChanged = isChanged || next[i] != held[i];
-                held[i] = next[i];
             }
+            System.arraycopy(next, 0, held, 0, REINSURERS);
             return isChanged;
+        }
+
+        private int passedOnTo(int reinsurer) {
+            int total = 0;
+            for (int i = 0; i < REINSURERS; i++) {
+                if (takers[i] == reinsurer) {
+                    total += passedOnBy(i);
+                }
+            }
+            return total;
         }
 
         /** Without a RETRO the DEPTH is 0, so that nothing is passed on. */
@@ -959,15 +973,15 @@ public final class Stormbond {
             failHours[station] = hour;
             int counting = 0;
             for (int i = 0; i < readings; i++) {
-                if (readStations[i] == station && isCounting(i)) {
+                if (isCounting(i, station)) {
                     counting++;
                 }
             }
             return counting;
         }
 
-        private boolean isCounting(int reading) {
-            return !hasFailedBy(readStations[reading], readHours[reading]);
+        private boolean isCounting(int reading, int station) {
+            return readStations[reading] == station && !hasFailedBy(station, readHours[reading]);
         }
 
         private boolean isInBox(int station, int box) {
@@ -1009,11 +1023,20 @@ public final class Stormbond {
         int greatestStrength(int peril, int box, int first, int last) {
             int standIn = standInFor(box, last);
             int greatest = 0;
+            for (int i = 0; i < count; i++) {
+                boolean isOfBond = standIn == NONE ? isInBox(i, box) : i == standIn;
+                if (isOfBond) {
+                    greatest = Math.max(greatest, strengthAt(i, peril, first, last));
+                }
+            }
+            return greatest;
+        }
+
+        private int strengthAt(int station, int peril, int first, int last) {
+            int greatest = 0;
             for (int i = 0; i < readings; i++) {
-                int station = readStations[i];
-                boolean isOfBond = standIn == NONE ? isInBox(station, box) : station == standIn;
                 boolean isInTerm = readHours[i] >= first && readHours[i] <= last;
-                if (isOfBond && isInTerm && readPerils[i] == peril && isCounting(i)) {
+                if (isInTerm && readPerils[i] == peril && isCounting(i, station)) {
                     greatest = Math.max(greatest, strengths[i]);
                 }
             }

@@ -431,7 +431,7 @@ public final class Stormbond {
 
     /**
      * The bits of a double that is 0 or between 1/1188 and 999999, as quotients of MODELS are. The
-     * language leaves no call that tells them; to double and to halve is exact, so they can be reckoned.
+     * language leaves no call that tells them; to double is exact, so they can be reckoned.
      */
     private static long bitsOf(double quotient) {
         double leastWhole = 4503599627370496.0;

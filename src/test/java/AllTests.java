@@ -1,4 +1,4 @@
-/** Runs every test of the project; takes the path of Stormbond.java. */
+/** Runs every test of the project; takes the paths of Stormbond.java and of README.md. */
 public final class AllTests {
     private AllTests() {
     }
@@ -17,6 +17,7 @@ public final class AllTests {
         BondTests.addTo(s);
         PriceTests.addTo(s);
         RandomRuns.addTo(s);
+        ReadmeTests.addTo(s, args.length > 1 ? args[1] : "README.md");
         LanguageTests.addTo(s, args.length > 0 ? args[0] : "src/main/java/Stormbond.java");
         if (!s.end()) {
             System.exit(1);
